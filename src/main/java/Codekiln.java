@@ -1470,8 +1470,8 @@ public final class Codekiln {
 
         /** The SIZE of that to which a pointer points. */
         static int stepOf(int pointer) {
-            int size = sizeOf(pointer - POINTER);
-            return isPointer(pointer) && size > 0 ? size : 1;
+            int type = pointer - POINTER;
+            return type == T_CHAR ? 1 : type == T_LONG ? 8 : 4;
         }
 
         static int both(int one, int other) {
@@ -1506,7 +1506,7 @@ public final class Codekiln {
         }
 
         boolean isLoose(int n) {
-            return kind(n) == E_NAME && node(n, B) == VARIABLE && variable(node(n, A), V_OFFSET) == NONE;
+            return node(n, KIND) == E_NAME && node(n, B) == VARIABLE && variable(node(n, A), V_OFFSET) == NONE;
         }
 
         /** How many of the variables of a function are PLACED. */
@@ -2041,8 +2041,13 @@ public final class Codekiln {
                     return switchStatement();
                 case W_BREAK:
                 case W_CONTINUE:
-                case W_RETURN:
                     return leavingStatement();
+                case W_RETURN:
+                    int leaving = program.newNode(S_RETURN, at, at);
+                    pos++;
+                    program.setNode(leaving, A, token() == ';' ? NONE : exp());
+                    take(';');
+                    return leaving;
                 default:
                     int n = program.newNode(S_EXP, at, at);
                     program.setNode(n, A, exp());
@@ -2088,10 +2093,12 @@ public final class Codekiln {
             }
             if (kind == S_FOR) {
                 open('(');
-                program.setNode(n, A, expUpTo(';'));
-                program.setNode(n, B, expUpTo(';'));
-                program.setNode(n, C, expUpTo(')'));
-                opened--;
+                program.setNode(n, A, token() == ';' ? NONE : exp());
+                take(';');
+                program.setNode(n, B, token() == ';' ? NONE : exp());
+                take(';');
+                program.setNode(n, C, token() == ')' ? NONE : exp());
+                close(')');
             }
             loops++;
             breakables++;
@@ -2106,12 +2113,6 @@ public final class Codekiln {
                 take(';');
             }
             opened--;
-            return n;
-        }
-
-        private int expUpTo(int sign) {
-            int n = token() == sign ? NONE : exp();
-            take(sign);
             return n;
         }
 
@@ -2136,18 +2137,13 @@ public final class Codekiln {
         }
 
         private int leavingStatement() {
-            int token = token();
-            int kind = token == W_BREAK ? S_BREAK : token == W_CONTINUE ? S_CONTINUE : S_RETURN;
-            int n = program.newNode(kind, placeAtHand(), placeAtHand());
-            if (kind == S_BREAK && breakables == 0 || kind == S_CONTINUE && loops == 0) {
+            boolean isBreak = token() == W_BREAK;
+            int n = program.newNode(isBreak ? S_BREAK : S_CONTINUE, placeAtHand(), placeAtHand());
+            if ((isBreak ? breakables : loops) == 0) {
                 later(placeAtHand());
             }
             pos++;
-            if (kind == S_RETURN) {
-                program.setNode(n, A, expUpTo(';'));
-            } else {
-                take(';');
-            }
+            take(';');
             return n;
         }
 
@@ -2463,34 +2459,32 @@ public final class Codekiln {
             return kind == E_NAME && program.node(n, B) == FUNCTION && program.namedType(n) == type;
         }
 
-        private void statements(int first) {
-            for (int n = first; n != NONE; n = program.node(n, NEXT)) {
-                statement(n);
-            }
-        }
-
         private void statement(int n) {
             int a = program.node(n, A);
+            int fitting = NONE;
+            int wanted = result;
             switch (program.kind(n)) {
                 case S_BLOCK:
-                    statements(a);
+                    for (int s = a; s != NONE; s = program.node(s, NEXT)) {
+                        statement(s);
+                    }
                     break;
                 case S_EXP:
                     exp(a);
                     break;
                 case S_IF:
-                    test(a);
+                    tested(a, exp(a));
                     statement(program.node(n, B));
                     statement(program.node(n, C));
                     break;
                 case S_WHILE:
                 case S_DO:
-                    test(a);
+                    tested(a, exp(a));
                     statement(program.node(n, D));
                     break;
                 case S_FOR:
                     exp(a);
-                    test(program.node(n, B));
+                    tested(program.node(n, B), exp(program.node(n, B)));
                     exp(program.node(n, C));
                     statement(program.node(n, D));
                     break;
@@ -2499,7 +2493,9 @@ public final class Codekiln {
                     if (type != NONE && Program.asRead(type) != T_INT) {
                         wrong(program.node(a, FIRST));
                     }
-                    statements(program.node(n, B));
+                    for (int s = program.node(n, B); s != NONE; s = program.node(s, NEXT)) {
+                        statement(s);
+                    }
                     break;
                 case S_CASE:
                     if (program.node(n, TYPE) == T_LONG) {
@@ -2507,42 +2503,32 @@ public final class Codekiln {
                     }
                     break;
                 case S_RETURN:
-                    returned(n, a);
+                    if ((a == NONE) != (result == T_VOID)) {
+                        wrong(program.node(n, AT));
+                    }
+                    fitting = a;
                     break;
                 case S_LOCAL:
-                    becomes(program.node(n, B), program.variable(a, V_TYPE));
+                    fitting = program.node(n, B);
+                    wanted = program.variable(a, V_TYPE);
                     break;
                 default:
                     break;
             }
-        }
-
-        private void test(int n) {
-            if (exp(n) == T_VOID) {
-                wrong(program.node(n, FIRST));
+            if (exp(fitting) != NONE && wanted != T_VOID && !converts(fitting, wanted)) {
+                wrong(program.node(fitting, FIRST));
             }
         }
 
-        private void returned(int n, int a) {
-            if ((a == NONE) != (result == T_VOID)) {
-                wrong(program.node(n, AT));
-            }
-            if (result == T_VOID) {
-                exp(a);
-            } else {
-                becomes(a, result);
-            }
-        }
-
-        private void becomes(int n, int type) {
-            if (exp(n) != NONE && !converts(n, type)) {
+        private void tested(int n, int type) {
+            if (type == T_VOID) {
                 wrong(program.node(n, FIRST));
             }
         }
 
         /** Whether an exp is the NUMBER 0 alone. */
         private boolean isZero(int n) {
-            return program.kind(n) == E_NUMBER && program.number(n) == 0 && program.node(n, TYPE) == T_INT
+            return program.node(n, KIND) == E_NUMBER && program.number(n) == 0 && program.node(n, TYPE) == T_INT
                 && program.node(n, FIRST) == program.node(n, AT);
         }
 
@@ -2586,9 +2572,7 @@ public final class Codekiln {
                 case E_BOTH:
                 case E_EITHER:
                 case E_ASSIGN:
-                    int one = exp(a);
-                    int other = exp(program.node(n, B));
-                    return one == NONE || other == NONE ? NONE : ofTwo(n, one, other);
+                    return ofTwo(n);
                 case E_CHOICE:
                     return choice(n);
                 case E_STAR:
@@ -2597,8 +2581,7 @@ public final class Codekiln {
                 case E_AHEAD:
                 case E_BEHIND:
                 case E_CAST:
-                    int part = exp(a);
-                    return part == NONE ? NONE : ofOne(n, a, part);
+                    return ofOne(n, a);
                 default:
                     return NONE;
             }
@@ -2613,7 +2596,11 @@ public final class Codekiln {
             return program.namedCells(n) > 0 ? type + POINTER : type;
         }
 
-        private int ofOne(int n, int a, int part) {
+        private int ofOne(int n, int a) {
+            int part = exp(a);
+            if (part == NONE) {
+                return NONE;
+            }
             int read = Program.asRead(part);
             int sign = program.node(n, D);
             int at = program.node(n, AT);
@@ -2635,9 +2622,14 @@ public final class Codekiln {
             }
         }
 
-        private int ofTwo(int n, int one, int other) {
+        private int ofTwo(int n) {
             int a = program.node(n, A);
             int b = program.node(n, B);
+            int one = exp(a);
+            int other = exp(b);
+            if (one == NONE || other == NONE) {
+                return NONE;
+            }
             int sign = program.node(n, D);
             int at = program.node(n, AT);
             int type;
@@ -3353,12 +3345,6 @@ public final class Codekiln {
             frames[frame + FRAME_VALUES] = valueCount;
             depth++;
             most = Math.max(most, depth);
-            placeParameters(f, many);
-            later(program.function(f, F_BODY), FINISH);
-            later(program.function(f, F_BODY), DO);
-        }
-
-        private void placeParameters(int f, int many) {
             for (int k = 0; k < many && state == WORKING; k++) {
                 int v = program.function(f, F_VARIABLES) + k;
                 int offset = program.variable(v, V_OFFSET);
@@ -3366,6 +3352,8 @@ public final class Codekiln {
                     store((top & UNSIGNED) + offset, program.variable(v, V_TYPE), locals[local(v)]);
                 }
             }
+            later(program.function(f, F_BODY), FINISH);
+            later(program.function(f, F_BODY), DO);
         }
 
         private void leave(long value) {
@@ -3758,28 +3746,32 @@ public final class Codekiln {
                     return WITH_WORD;
                 case CONST_LONG:
                     return WITH_LONG;
+                case UNREACHABLE:
+                case NOP:
+                case ELSE:
+                case CLOSE:
+                case RETURN:
+                case DROP:
+                case SELECT:
+                case EQZ:
+                case EQZ_LONG:
+                case WRAP:
+                case EXTEND:
+                    return WITH_NOTHING;
                 default:
-                    return isPlain(op) ? WITH_NOTHING : NONE;
+                    return isOfTwo(op) ? WITH_NOTHING : NONE;
             }
         }
 
-        private static boolean isPlain(int op) {
-            return op == UNREACHABLE || op == NOP || op == ELSE || op == CLOSE || op == RETURN || op == DROP
-                || op == SELECT || op == EQZ || op == EQZ_LONG || op == WRAP || op == EXTEND || isOfTwo(op);
-        }
-
-        /** Whether an instruction takes two of a SORT and gives one. */
+        /** Whether an instruction takes two of a SORT and gives one; some without a sign are not known. */
         static boolean isOfTwo(int op) {
-            return isComparison(op) || isReckoning(op) || isReckoning(op - LONG_RECKONS);
+            return op >= EQ && op <= GE_U || op >= EQ_LONG && op <= GE_U_LONG
+                || op >= ADD && op <= SHR_U && op != 110 && op != 112
+                || op >= ADD_LONG && op <= SHR_U_LONG && op != 128 && op != 130;
         }
 
         static boolean isComparison(int op) {
             return op >= EQ && op <= GE_U || op >= EQ_LONG && op <= GE_U_LONG;
-        }
-
-        /** Of i32: add to shr_u, but those without a sign that the machine does not know. */
-        private static boolean isReckoning(int op) {
-            return op >= ADD && op <= SHR_U && op != 110 && op != 112;
         }
 
         /** The SORT of what an instruction of one or two of a SORT takes. */
@@ -3811,8 +3803,8 @@ public final class Codekiln {
         private static final int EXPORT_SIZE = NAME_MOST + 2;
         private final int[] types = new int[TYPES_MOST * TYPE_SIZE];
         int typeCount;
-        final int[] importNames = new int[4];
-        final int[] importTypes = new int[4];
+        /** Of each import 0 for get or 1 for put, and its type. */
+        private final int[] imports = new int[8];
         int importCount;
         private final Body[] bodies = new Body[FUNCTIONS_MOST];
         int own;
@@ -3820,8 +3812,8 @@ public final class Codekiln {
         int entries = NONE;
         int least = NONE;
         int most = NONE;
-        final int[] globalSorts = new int[GLOBALS_MOST];
-        final int[] globalChanging = new int[GLOBALS_MOST];
+        /** Of each global its SORT, and 1 if it changes. */
+        private final int[] globals = new int[GLOBALS_MOST * 2];
         final long[] globalFirsts = new long[GLOBALS_MOST];
         int globalCount;
         private final int[] exports = new int[EXPORTS_MOST * EXPORT_SIZE];
@@ -3865,10 +3857,8 @@ public final class Codekiln {
             dataCount = from.dataCount;
             program = from.program;
             System.arraycopy(from.types, 0, types, 0, types.length);
-            System.arraycopy(from.importNames, 0, importNames, 0, importNames.length);
-            System.arraycopy(from.importTypes, 0, importTypes, 0, importTypes.length);
-            System.arraycopy(from.globalSorts, 0, globalSorts, 0, globalSorts.length);
-            System.arraycopy(from.globalChanging, 0, globalChanging, 0, globalChanging.length);
+            System.arraycopy(from.imports, 0, imports, 0, imports.length);
+            System.arraycopy(from.globals, 0, globals, 0, globals.length);
             System.arraycopy(from.globalFirsts, 0, globalFirsts, 0, globalFirsts.length);
             System.arraycopy(from.exports, 0, exports, 0, exports.length);
             System.arraycopy(from.elements, 0, elements, 0, elements.length);
@@ -3902,7 +3892,7 @@ public final class Codekiln {
         }
 
         int typeOf(int function) {
-            return function < importCount ? importTypes[Math.max(0, function)] : body(function - importCount).signature;
+            return function < importCount ? importType(function) : body(function - importCount).signature;
         }
 
         /** Begins a type behind those that there are; keepType() counts it. */
@@ -3966,20 +3956,36 @@ public final class Codekiln {
         }
 
         void addImport(int name, int type) {
-            if (importCount < importNames.length) {
-                importNames[importCount] = name;
-                importTypes[importCount] = type;
+            if (importCount < 4) {
+                imports[importCount * 2] = name;
+                imports[importCount * 2 + 1] = type;
                 importCount++;
             }
         }
 
+        boolean importsGet(int k) {
+            return k >= 0 && k < 4 && imports[k * 2] == 0;
+        }
+
+        int importType(int k) {
+            return k >= 0 && k < 4 ? imports[k * 2 + 1] : 0;
+        }
+
         void addGlobal(int sort, int changing, long first) {
             if (globalCount < GLOBALS_MOST) {
-                globalSorts[globalCount] = sort;
-                globalChanging[globalCount] = changing;
+                globals[globalCount * 2] = sort;
+                globals[globalCount * 2 + 1] = changing;
                 globalFirsts[globalCount] = first;
                 globalCount++;
             }
+        }
+
+        int globalSort(int k) {
+            return k >= 0 && k < globalCount ? globals[k * 2] : NO_SORT;
+        }
+
+        boolean isChanging(int k) {
+            return k >= 0 && k < globalCount && globals[k * 2 + 1] == 1;
         }
 
         void addExport(int function) {
@@ -4109,10 +4115,8 @@ public final class Codekiln {
         }
 
         private boolean areLikeThings(Module other) {
-            boolean is = areSame(importNames, other.importNames, importCount)
-                && areSame(importTypes, other.importTypes, importCount)
-                && areSame(globalSorts, other.globalSorts, globalCount)
-                && areSame(globalChanging, other.globalChanging, globalCount)
+            boolean is = areSame(imports, other.imports, importCount * 2)
+                && areSame(globals, other.globals, globalCount * 2)
                 && areSame(elements, other.elements, elementCount * 2)
                 && areSame(listed, other.listed, listedEnd(elementCount - 1))
                 && areSame(datas, other.datas, dataCount * 2);
@@ -4738,10 +4742,15 @@ public final class Codekiln {
                     }
                     break;
                 case S_EXP:
-                    dropped(a);
+                    code(a);
+                    drop(a);
                     break;
                 case S_LOCAL:
-                    local(a, program.node(n, B));
+                    if (program.node(n, B) != NONE) {
+                        aheadOfLocal(a);
+                        codeAs(program.node(n, B), program.variable(a, V_TYPE));
+                        behindLocal(a);
+                    }
                     break;
                 case S_IF:
                     condition(a);
@@ -4757,7 +4766,8 @@ public final class Codekiln {
                     loop(n, a, NONE);
                     break;
                 case S_FOR:
-                    dropped(a);
+                    code(a);
+                    drop(a);
                     loop(n, program.node(n, B), program.node(n, C));
                     break;
                 case S_DO:
@@ -4773,42 +4783,34 @@ public final class Codekiln {
                     body.add(BR, opened - continueAt);
                     break;
                 case S_RETURN:
-                    returned(a);
+                    codeAs(a, program.resultOf(program.function(function, F_SIGN)));
+                    giveFrameBack();
+                    body.add(RETURN, NONE);
                     break;
                 default:
                     break;
             }
         }
 
-        private void dropped(int n) {
-            code(n);
+        private void drop(int n) {
             if (n != NONE && typeOf(n) != T_VOID) {
                 body.add(DROP, NONE);
             }
         }
 
-        private void local(int v, int e) {
-            int offset = program.variable(v, V_OFFSET);
-            int type = program.variable(v, V_TYPE);
-            if (e == NONE) {
-                return;
-            }
-            if (offset == NONE) {
-                codeAs(e, type);
-                body.add(LOCAL_SET, localOf(v));
-            } else {
+        private void aheadOfLocal(int v) {
+            if (program.variable(v, V_OFFSET) != NONE) {
                 body.add(LOCAL_GET, LOCAL_P);
-                codeAs(e, type);
-                store(type, offset);
             }
         }
 
-        private void returned(int e) {
-            if (e != NONE) {
-                codeAs(e, program.resultOf(program.function(function, F_SIGN)));
+        private void behindLocal(int v) {
+            int offset = program.variable(v, V_OFFSET);
+            if (offset == NONE) {
+                body.add(LOCAL_SET, localOf(v));
+            } else {
+                store(program.variable(v, V_TYPE), offset);
             }
-            giveFrameBack();
-            body.add(RETURN, NONE);
         }
 
         /** while, and for, which may lack a test and have an exp behind its statement. */
@@ -4824,7 +4826,8 @@ public final class Codekiln {
             open(BLOCK, NO_SORT);
             statement(program.node(n, D), breakAt, opened);
             close();
-            dropped(behind);
+            code(behind);
+            drop(behind);
             body.add(BR, 0);
             close();
             close();
@@ -4846,7 +4849,8 @@ public final class Codekiln {
         private void switchOf(int n, int test, int continueAt) {
             int first = program.node(n, B);
             if (first == NONE) {
-                dropped(test);
+                code(test);
+                drop(test);
                 return;
             }
             int chosen = LOCAL_S + switches;
@@ -4872,7 +4876,7 @@ public final class Codekiln {
         }
 
         private boolean isLabel(int n) {
-            return program.kind(n) == S_CASE || program.kind(n) == S_DEFAULT;
+            return program.node(n, KIND) == S_CASE || program.node(n, KIND) == S_DEFAULT;
         }
 
         /** Goes to the label of the number: by a table if the numbers lie near one another. */
@@ -5120,8 +5124,8 @@ public final class Codekiln {
 
         private void importsOut() {
             unsigned(module.importCount);
-            for (int k = 0; k < module.importCount && k < module.importNames.length; k++) {
-                boolean isGet = module.importNames[k] == 0;
+            for (int k = 0; k < module.importCount; k++) {
+                boolean isGet = module.importsGet(k);
                 put(1);
                 put('h');
                 put(3);
@@ -5129,16 +5133,16 @@ public final class Codekiln {
                 put(isGet ? 'e' : 'u');
                 put('t');
                 put(0);
-                unsigned(module.importTypes[k]);
+                unsigned(module.importType(k));
             }
         }
 
         private void globalsOut() {
             unsigned(module.globalCount);
             for (int k = 0; k < module.globalCount && k < Module.GLOBALS_MOST; k++) {
-                put(module.globalSorts[k]);
-                put(module.globalChanging[k]);
-                put(module.globalSorts[k] == I64 ? CONST_LONG : CONST);
+                put(module.globalSort(k));
+                put(module.isChanging(k) ? 1 : 0);
+                put(module.globalSort(k) == I64 ? CONST_LONG : CONST);
                 signed(module.globalFirsts[k]);
                 put(CLOSE);
             }
@@ -5852,11 +5856,11 @@ public final class Codekiln {
                 take(op == LOCAL_GET ? NO_SORT : sort);
                 put(op == LOCAL_SET ? NO_SORT : sort);
             } else {
-                isGood = isGood && with < module.globalCount && with < Module.GLOBALS_MOST;
-                int k = isGood ? (int) with : 0;
-                isGood = isGood && (op == GLOBAL_GET || module.globalChanging[k] == 1);
-                take(op == GLOBAL_GET ? NO_SORT : module.globalSorts[k]);
-                put(op == GLOBAL_GET ? module.globalSorts[k] : NO_SORT);
+                isGood = isGood && with < module.globalCount;
+                int k = isGood ? (int) with : NONE;
+                isGood = isGood && (op == GLOBAL_GET || module.isChanging(k));
+                take(op == GLOBAL_GET ? NO_SORT : module.globalSort(k));
+                put(op == GLOBAL_GET ? module.globalSort(k) : NO_SORT);
             }
         }
 
@@ -5983,7 +5987,8 @@ public final class Codekiln {
         private long[] conflicts = new long[64];
         private int[] standsFor = new int[64];
         private int[] numbers = new int[64];
-        private boolean[] isUsed = new boolean[64];
+        /** 1 of a local that some instruction gets, sets or tees. */
+        private int[] isUsed = new int[64];
 
         void doAll(Module m, int bits) {
             for (int k = 0; k < PASSES; k++) {
@@ -6555,7 +6560,7 @@ public final class Codekiln {
             if (standsFor.length < locals) {
                 standsFor = new int[locals * 2];
                 numbers = new int[locals * 2];
-                isUsed = new boolean[locals * 2];
+                isUsed = new int[locals * 2];
             }
             if (conflicts.length < locals * width) {
                 conflicts = new long[locals * width * 2];
@@ -6567,12 +6572,12 @@ public final class Codekiln {
 
         private void findConflicts(int locals, int parameters) {
             Arrays.fill(conflicts, 0, locals * width, 0L);
-            Arrays.fill(isUsed, false);
+            Arrays.fill(isUsed, 0);
             for (int i = 0; i < body.count; i++) {
                 findBehind(i);
                 if (Maker.isOfLocal(body.op(i))) {
                     int local = (int) body.with(i);
-                    isUsed[Math.max(0, Math.min(local, isUsed.length - 1))] = true;
+                    isUsed[Math.max(0, Math.min(local, isUsed.length - 1))] = 1;
                     if (body.op(i) != LOCAL_GET) {
                         addBehind(local);
                     }
@@ -6613,7 +6618,7 @@ public final class Codekiln {
         /** A group conflicts with all with which one of it does: that is kept at the one that stands for it. */
         private void joinLocals(int locals, int parameters) {
             for (int k = 0; k < locals; k++) {
-                standsFor[k] = k < parameters || isUsed[k] ? k : NONE;
+                standsFor[k] = k < parameters || isUsed[k] == 1 ? k : NONE;
                 for (int ahead = 0; ahead < k && k >= parameters && standsFor[k] == k; ahead++) {
                     boolean isAlone = standsFor[ahead] == ahead;
                     if (isAlone && module.sortOf(body, ahead) == module.sortOf(body, k) && !isConflict(ahead, k)) {
@@ -6940,7 +6945,7 @@ public final class Codekiln {
         private void call(int f) {
             if (f >= module.importCount) {
                 enter(f);
-            } else if (module.importNames[Math.max(0, f) % module.importNames.length] == 0) {
+            } else if (module.importsGet(f)) {
                 push(inputAt < inputCount && inputAt < input.length ? input[inputAt] : -1);
                 inputAt = Math.min(inputAt + 1, inputCount);
             } else {
