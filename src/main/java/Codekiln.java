@@ -370,7 +370,7 @@ public final class Codekiln {
         parser.isExamined = true;
         parser.kind = 0;
         parser.tokens.cut(text, textLength);
-        parser.begin(program);
+        parser.prepare(program);
         try {
             parser.things();
         } catch (IllegalStateException e) {
@@ -1107,11 +1107,12 @@ public final class Codekiln {
         }
 
         private static int behindSpaces(byte[] text, int length, int from) {
-            int at = from;
-            while (at < length && at < text.length && (text[at] == 32 || text[at] == 10)) {
-                at++;
+            for (int at = from; at < length && at < text.length; at++) {
+                if (text[at] != 32 && text[at] != 10) {
+                    return at;
+                }
             }
-            return at;
+            return length;
         }
 
         private int one(byte[] text, int length, int at) {
@@ -1300,6 +1301,11 @@ public final class Codekiln {
 
         int kind(int n) {
             return node(n, KIND);
+        }
+
+        /** What stands behind a node in its row: an item of a block, an exp of a call, a constant. */
+        int next(int n) {
+            return n >= 0 && n < nodeCount ? nodes[n * NODE + NEXT] : NONE;
         }
 
         long number(int n) {
@@ -1631,7 +1637,7 @@ public final class Codekiln {
         private long varName;
         private int varPlace;
 
-        void begin(Program into) {
+        void prepare(Program into) {
             program = into;
             program.clear();
             pos = 0;
@@ -1985,7 +1991,7 @@ public final class Codekiln {
             }
             take(':');
             int many = 1;
-            for (int s = first; s != NONE; s = program.node(s, NEXT)) {
+            for (int s = first, left = TOKENS_MOST; s != NONE && left > 0; s = program.next(s), left--) {
                 int kind = program.kind(s);
                 many = kind == S_CASE || kind == S_DEFAULT ? many + 1 : many;
                 if (kind == program.kind(n) && program.number(s) == program.number(n)
@@ -2465,7 +2471,7 @@ public final class Codekiln {
             int wanted = result;
             switch (program.kind(n)) {
                 case S_BLOCK:
-                    for (int s = a; s != NONE; s = program.node(s, NEXT)) {
+                    for (int s = a, left = TOKENS_MOST; s != NONE && left > 0; s = program.next(s), left--) {
                         statement(s);
                     }
                     break;
@@ -2493,7 +2499,7 @@ public final class Codekiln {
                     if (type != NONE && Program.asRead(type) != T_INT) {
                         wrong(program.node(a, FIRST));
                     }
-                    for (int s = program.node(n, B); s != NONE; s = program.node(s, NEXT)) {
+                    for (int s = program.node(n, B), left = TOKENS_MOST; s != NONE && left > 0; s = program.next(s), left--) {
                         statement(s);
                     }
                     break;
@@ -2714,7 +2720,7 @@ public final class Codekiln {
 
         private int call(int n) {
             boolean isWhole = true;
-            for (int part = program.node(n, C); part != NONE; part = program.node(part, NEXT)) {
+            for (int part = program.node(n, C), left = TOKENS_MOST; part != NONE && left > 0; part = program.next(part), left--) {
                 isWhole = exp(part) != NONE && isWhole;
             }
             if (!isWhole) {
@@ -2729,7 +2735,7 @@ public final class Codekiln {
                 return wrong(program.node(n, AT));
             }
             int k = 0;
-            for (int part = program.node(n, C); part != NONE; part = program.node(part, NEXT)) {
+            for (int part = program.node(n, C), left = TOKENS_MOST; part != NONE && left > 0; part = program.next(part), left--) {
                 if (!converts(part, isOwn ? program.parameterOf(type, k) : T_INT)) {
                     wrong(program.node(part, FIRST));
                     isWhole = false;
@@ -3018,7 +3024,7 @@ public final class Codekiln {
         private void call(int n) {
             later(n, FINISH);
             int from = taskCount;
-            for (int part = program.node(n, C); part != NONE; part = program.node(part, NEXT)) {
+            for (int part = program.node(n, C), left = TOKENS_MOST; part != NONE && left > 0; part = program.next(part), left--) {
                 later(part, DO);
             }
             int last = taskCount - 1;
@@ -3100,7 +3106,7 @@ public final class Codekiln {
         private void enterSwitch(int n, long number) {
             int found = NONE;
             int otherwise = NONE;
-            for (int s = program.node(n, B); s != NONE; s = program.node(s, NEXT)) {
+            for (int s = program.node(n, B), left = TOKENS_MOST; s != NONE && left > 0; s = program.next(s), left--) {
                 if (program.kind(s) == S_CASE && program.number(s) == number) {
                     found = s;
                 }
@@ -4333,7 +4339,7 @@ public final class Codekiln {
             body.add(type == T_LONG ? CONST_LONG : CONST, number);
         }
 
-        private void load(int type, int offset) {
+        private void fetch(int type, int offset) {
             body.add(type == T_CHAR ? LOAD_BYTE : type == T_LONG ? LOAD_LONG : LOAD, offset);
         }
 
@@ -4413,7 +4419,7 @@ public final class Codekiln {
                     break;
                 case E_STAR:
                 case E_INDEX:
-                    load(program.node(n, TYPE), address(n));
+                    fetch(program.node(n, TYPE), address(n));
                     break;
                 case E_ADDRESS:
                     whereItLies(a);
@@ -4465,7 +4471,7 @@ public final class Codekiln {
             } else if (program.isLoose(n)) {
                 body.add(LOCAL_GET, localOf(what));
             } else {
-                load(program.namedType(n), address(n));
+                fetch(program.namedType(n), address(n));
             }
         }
 
@@ -4645,7 +4651,7 @@ public final class Codekiln {
             }
             body.add(LOCAL_GET, local);
             if (!isLoose) {
-                load(type, offset);
+                fetch(type, offset);
             }
         }
 
@@ -4713,7 +4719,7 @@ public final class Codekiln {
             boolean isOwn = binding != GET && binding != PUT;
             int sign = program.namedType(n);
             int k = 0;
-            for (int part = program.node(n, C); part != NONE; part = program.node(part, NEXT)) {
+            for (int part = program.node(n, C), left = TOKENS_MOST; part != NONE && left > 0; part = program.next(part), left--) {
                 codeAs(part, isOwn ? program.parameterOf(sign, k) : T_INT);
                 k++;
             }
@@ -4724,7 +4730,7 @@ public final class Codekiln {
             } else {
                 if (binding == GLOBAL) {
                     body.add(CONST, program.global(what, G_PLACE));
-                    load(sign, 0);
+                    fetch(sign, 0);
                 } else {
                     body.add(LOCAL_GET, localOf(what));
                 }
@@ -4737,7 +4743,7 @@ public final class Codekiln {
             int a = program.node(n, A);
             switch (program.kind(n)) {
                 case S_BLOCK:
-                    for (int s = a; s != NONE; s = program.node(s, NEXT)) {
+                    for (int s = a, left = TOKENS_MOST; s != NONE && left > 0; s = program.next(s), left--) {
                         statement(s, breakAt, continueAt);
                     }
                     break;
@@ -4859,13 +4865,13 @@ public final class Codekiln {
             body.add(LOCAL_SET, chosen);
             open(BLOCK, NO_SORT);
             int breakAt = opened;
-            for (int s = first; s != NONE; s = program.node(s, NEXT)) {
+            for (int s = first, left = TOKENS_MOST; s != NONE && left > 0; s = program.next(s), left--) {
                 if (isLabel(s)) {
                     open(BLOCK, NO_SORT);
                 }
             }
             choose(first, chosen, opened - breakAt);
-            for (int s = first; s != NONE; s = program.node(s, NEXT)) {
+            for (int s = first, left = TOKENS_MOST; s != NONE && left > 0; s = program.next(s), left--) {
                 if (isLabel(s)) {
                     close();
                 } else {
@@ -4886,7 +4892,7 @@ public final class Codekiln {
             int label = 0;
             long least = Long.MAX_VALUE;
             long greatest = Long.MIN_VALUE;
-            for (int s = first; s != NONE; s = program.node(s, NEXT)) {
+            for (int s = first, left = TOKENS_MOST; s != NONE && left > 0; s = program.next(s), left--) {
                 if (program.kind(s) == S_CASE) {
                     cases++;
                     least = Math.min(least, program.number(s));
@@ -4912,7 +4918,7 @@ public final class Codekiln {
 
         private int labelOf(int first, long number, int otherwise) {
             int label = 0;
-            for (int s = first; s != NONE; s = program.node(s, NEXT)) {
+            for (int s = first, left = TOKENS_MOST; s != NONE && left > 0; s = program.next(s), left--) {
                 if (program.kind(s) == S_CASE && program.number(s) == number) {
                     return label;
                 }
@@ -4923,7 +4929,7 @@ public final class Codekiln {
 
         private void eachCase(int first, int chosen) {
             int label = 0;
-            for (int s = first; s != NONE; s = program.node(s, NEXT)) {
+            for (int s = first, left = TOKENS_MOST; s != NONE && left > 0; s = program.next(s), left--) {
                 if (program.kind(s) == S_CASE) {
                     body.add(LOCAL_GET, chosen);
                     body.add(CONST, program.number(s));
@@ -5747,7 +5753,7 @@ public final class Codekiln {
             if (stack.length < b.count + 8) {
                 stack = new int[b.count * 2 + 8];
             }
-            begin(UNREACHABLE, m.result(b.signature));
+            openBlock(UNREACHABLE, m.result(b.signature));
             for (int i = 0; i < b.count; i++) {
                 instruction(b.op(i), b.with(i));
                 if (keeps && Body.opens(b.op(i))) {
@@ -5760,7 +5766,7 @@ public final class Codekiln {
             return Math.max(0, b.count - 1);
         }
 
-        private void begin(int op, int sort) {
+        private void openBlock(int op, int sort) {
             if (blocks < BLOCKS_MOST) {
                 openers[blocks] = op;
                 sorts[blocks] = sort;
@@ -5807,7 +5813,7 @@ public final class Codekiln {
                     if (op == IF) {
                         take(I32);
                     }
-                    begin(op, (int) with);
+                    openBlock(op, (int) with);
                     break;
                 case WITH_INDEX:
                     indexed(op, with);
