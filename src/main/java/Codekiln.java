@@ -1766,7 +1766,7 @@ public final class Codekiln {
             boolean more = pos < TOKENS_MOST && tokens.kinds[pos] != ')';
             for (int k = 0; k < TOKENS_MOST && more; k++) {
                 if (many == 5) {
-                    laterFault = Math.min(laterFault, tokens.places[pos]);
+                    laterFault = Math.min(laterFault, placeAtHand());
                 }
                 types[many] = word(false);
                 many++;
