@@ -16,6 +16,7 @@ public final class BytesTest {
         branches();
         sameOnes();
         roundTrip();
+        tooManyBytes();
         Case.end();
     }
 
@@ -569,5 +570,51 @@ public final class BytesTest {
         Case.is("clearModules", x.clearModules(), 12);
         Case.is("read", x.read(), -1);
         Case.is("its place", x.fault(false), 3);
+    }
+
+    /** 20 functions that call a leaf of 30 instructions 49 times each: behind INLINE they are too long to be written. */
+    private static void tooManyBytes() {
+        Codekiln x = new Codekiln();
+        int functions = 20;
+        int[] declared = new int[functions + 3];
+        declared[0] = 3;
+        declared[1] = functions + 1;
+        for (int b : Case.module(new int[] {1, 1, 96, 0, 0}, declared)) {
+            x.bytes(b, 1);
+        }
+        int size = 1 + 32 + functions * 101;
+        x.bytes(10, 1);
+        x.bytes(size & 127 | 128, 1);
+        x.bytes(size >> 7, 1);
+        x.bytes(functions + 1, 1);
+        x.bytes(31 << 8, 2);
+        for (int k = 0; k < 29; k++) {
+            x.bytes(1, 1);
+        }
+        x.bytes(11, 1);
+        for (int f = 0; f < functions; f++) {
+            x.bytes(100 << 8, 2);
+            for (int k = 0; k < 49; k++) {
+                x.bytes(16 << 8, 2);
+            }
+            x.bytes(11, 1);
+        }
+        Case.is("read at " + x.fault(false), x.read(), 0);
+        x.pass(0, 0);
+        Case.is("bytes", x.moduleIs(1, 8) > 20000, true);
+        Case.noState("write", () -> x.write(1));
+        Case.is("the BYTES stay", x.byteAt(0) == 0 && x.byteAt(1) == 97, true);
+        Case.is("the module that was read", x.write(0), x.moduleIs(0, 8));
+        Case.is("errors", x.errors(), 0);
+        Case.is("isSteady", x.isSteady(1, 1), true);
+        Codekiln y = new Codekiln();
+        for (int k = 0; k < 2500; k++) {
+            y.bytes(k, 8);
+        }
+        Case.noState("a 20001st byte", () -> y.bytes(1, 1));
+        Case.noArgument("9 bytes beside 20000", () -> y.bytes(1, 9));
+        Case.is("cutBytes", y.cutBytes(19999), 20000);
+        Case.noState("2 bytes more", () -> y.bytes(1, 2));
+        Case.is("one byte more", y.bytes(1, 1), 20000);
     }
 }
