@@ -13,6 +13,8 @@ public final class BytesTest {
         secondKind();
         valid();
         deadCode();
+        branchesInDeadCode();
+        passesOverDeadCode();
         branches();
         sameOnes();
         roundTrip();
@@ -477,9 +479,48 @@ public final class BytesTest {
         check(-1, 2, 64, 12, 0, 106, 26, 11, 65, 0, 11);
         check(0, 15, 11);
         check(-1, 32, 0, 4, 127, 0, 5, 65, 1, 11, 11);
-        // What br_if puts again is the value of the block.
-        check(3, 2, 127, 0, 13, 0, 80, 11, 11);
+    }
+
+    /** br_if puts again what it took, as the SORT that it is; UNKNOWN stays UNKNOWN. */
+    private static void branchesInDeadCode() {
+        check(-1, 2, 127, 0, 13, 0, 80, 11, 11);
         check(-1, 2, 127, 0, 13, 0, 69, 11, 11);
+        check(-1, 0, 13, 0, 80, 11);
+        check(-1, 0, 13, 0, 13, 0, 80, 11);
+        check(-1, 0, 27, 13, 0, 80, 11);
+        check(-1, 0, 65, 0, 13, 0, 80, 11);
+        check(3, 0, 13, 0, 172, 11);
+        check(4, 0, 13, 0, 80, 172, 11);
+        // What is known is put again as it is: nothing may stand for it.
+        check(4, 0, 65, 5, 65, 1, 13, 0, 80, 11);
+        check(-1, 0, 65, 5, 65, 1, 13, 0, 69, 11);
+        check(3, 65, 5, 65, 1, 13, 0, 80, 11);
+        check(3, 0, 66, 5, 65, 1, 13, 0, 11);
+        check(2, 0, 66, 5, 13, 0, 11);
+        // To a loop, or a block without a value, it puts nothing.
+        check(-1, 3, 127, 0, 13, 0, 80, 11, 11);
+        check(5, 0, 2, 64, 0, 13, 0, 66, 5, 11, 11);
+        // It lies there above the height: one more is one too many.
+        check(3, 0, 13, 0, 65, 0, 11);
+        check(-1, 0, 13, 0, 26, 26, 65, 0, 11);
+        check(-1, 0, 13, 0, 65, 0, 27, 11);
+        check(-1, 0, 13, 0, 66, 0, 66, 0, 81, 27, 11);
+    }
+
+    /** What a pass makes of VALID dead code is VALID. */
+    private static void passesOverDeadCode() {
+        int[][] codes = {{0, 13, 0, 80, 11}, {2, 127, 0, 13, 0, 80, 11, 11}, {0, 27, 13, 0, 80, 11},
+            {0, 65, 1, 13, 0, 80, 11}, {0, 65, 0, 13, 0, 80, 11}, {0, 69, 69, 13, 0, 80, 11}};
+        for (int[] code : codes) {
+            Codekiln x = new Codekiln();
+            Case.setBytes(x, Case.module(new int[] {1, 1, 96, 0, 1, 127}, ONE, Case.codeSection(code)));
+            Case.is("read", x.read(), 0);
+            for (int k = 0; k < 7; k++) {
+                Case.is("isSteady(0, " + k + ")", x.isSteady(0, k), true);
+            }
+            x.passes(0, 127);
+            Case.is("errors", x.errors(), 0);
+        }
     }
 
     private static void branches() {

@@ -5884,8 +5884,7 @@ public final class Codekiln {
             int sort = takenAt(out);
             if (op == BR_IF) {
                 take(I32);
-                take(sort);
-                put(sort);
+                put(take(sort));
             } else {
                 take(sort);
                 die();
