@@ -182,6 +182,18 @@ final class Case {
         }
     }
 
+    /** Puts bytes behind the BYTES, 8 a call. */
+    static void addAll(Codekiln kiln, byte[] bytes) {
+        for (int from = 0; from < bytes.length; from += 8) {
+            int many = Math.min(8, bytes.length - from);
+            long eight = 0;
+            for (int k = 0; k < many; k++) {
+                eight = eight << 8 | bytes[from + k] & 255;
+            }
+            kiln.bytes(eight, many);
+        }
+    }
+
     /** Bytes of a module: the head, then, for each row, a section with its size put in. */
     static int[] module(int[]... sections) {
         int[] all = {0, 97, 115, 109, 1, 0, 0, 0};

@@ -19,15 +19,8 @@ public final class PassTest {
         Case.end();
     }
 
-    private static int[] with(int first, int... rest) {
-        int[] all = new int[rest.length + 1];
-        all[0] = first;
-        System.arraycopy(rest, 0, all, 1, rest.length);
-        return all;
-    }
-
     /** A module of one function of i32, i64 and i32, with two locals more of each SORT, a memory and a global. */
-    private static Codekiln read(int... code) {
+    static Codekiln read(int... code) {
         int[] body = new int[code.length + 5];
         body[0] = 2;
         body[1] = 2;
@@ -49,7 +42,7 @@ public final class PassTest {
         return x;
     }
 
-    private static void pass(int which, String want, int... code) {
+    static void pass(int which, String want, int... code) {
         Codekiln x = read(code);
         String before = Case.code(x, 0, 0);
         Case.is("isSteady", x.isSteady(0, which), true);
@@ -201,7 +194,7 @@ public final class PassTest {
     }
 
     /** A module: function 0 of nothing and nothing, of so many nops and more locals; function 1 calls it often. */
-    private static Codekiln calling(int nops, int locals, int calls, int callerLocals, int deep) {
+    static Codekiln calling(int nops, int locals, int calls, int callerLocals, int deep) {
         java.util.ArrayList<Integer> bytes = new java.util.ArrayList<>();
         for (int b : Case.module(new int[] {1, 1, 96, 0, 0}, new int[] {3, 2, 0, 0}, new int[] {7, 1, 1, 'f', 0, 1})) {
             bytes.add(b);
