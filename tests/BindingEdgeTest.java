@@ -97,6 +97,13 @@ public final class BindingEdgeTest {
         Case.faultAt(2, "int f(){switch(1){case 1:int a;case 2:int @a;}}");
         Case.good("int f(){switch(1){case 1:int a;case 2:{int a;}}}");
         Case.good("int f(int f){return f;}");
+        // Behind a block, or a switch, the block round it is the one at hand again.
+        Case.faultAt(2, "int f(){int a;{int b;}int @a;}");
+        Case.faultAt(2, "int f(){int a;switch(1){case 1:int b;}int @a;}");
+        Case.faultAt(2, "int f(int a){switch(1){default:int a;}int @a;}");
+        Case.faultAt(2, "int f(){{int a;switch(1){case 1:int a;{int a;}int @a;}}}");
+        Case.faultAt(2, "int f(){int a;if(1){int a;}else{int a;}while(0){int a;}do{int a;}while(0);for(;;){int a;}int @a;}");
+        Case.good("int f(){switch(1){case 1:int a;}switch(2){case 1:int a;}int a;}");
     }
 
     /** A function may be told again, if its result and the types of its parameters are the same. */

@@ -26,6 +26,12 @@ public final class MeaningEdgeTest {
         switches();
         asked();
         aheadOfAny();
+        convertedExps();
+        wrongNumbersOfVoid();
+        returnsOfNothing();
+        droppedValues();
+        arraysOfOneCell();
+        placesThatGoRound();
         Case.end();
     }
 
@@ -519,5 +525,136 @@ public final class MeaningEdgeTest {
             Case.is("meantByte(" + place + ")", x.meantByte(place), 0);
         }
         Case.is("firstByte(0, 16)", x.firstByte(0, 16), 5);
+    }
+
+    /** A call works out its exps, each converted: the first and the last, of a function, by a pointer, and of put. */
+    private static void convertedExps() {
+        String types = "char a,int b,long c,char d,char e";
+        String sum = "{put(a);put(b);put((int)(c>>32));put(d);put(e);return c;}";
+        String given = "(1000,4294967298L,-3,513L,-1)";
+        long[] puts = {1000 & 255, 2, -1, 1, 255};
+        String[] texts = {"long g(" + types + ")" + sum + "long f(){return g" + given + ";}",
+            "long g(" + types + ")" + sum + "long(*h)(char,int,long,char,char)=g;long f(){return h" + given + ";}",
+            "long g(" + types + ")" + sum + "long f(){long(*h)(char,int,long,char,char)=g;return h" + given + ";}",
+            "long g(" + types + "){&a;&b;&c;&d;&e;" + sum.substring(1) + "long f(){return g" + given + ";}"};
+        for (String text : texts) {
+            Codekiln x = Case.loaded(text);
+            Case.is("end of " + text, x.mean(0, 1, 0, 0, 0), 0);
+            Case.is("value of " + text, x.meant(0), -3);
+            for (int k = 0; k < 5; k++) {
+                Case.is("exp " + k + " of " + text, x.out(k), puts[k]);
+            }
+            Case.is("both ways", x.agree(0, 1, 0, 0, 0, 0), 1);
+            Case.is("both ways", x.agree(0, 1, 127, 0, 0, 0), 1);
+        }
+        Codekiln x = Case.loaded("void f(long a){put(a);put(a+1);put((char)a);}");
+        x.mean(0, 0, 4294967295L, 0, 0);
+        Case.is("put of a LONG", x.out(0), -1);
+        Case.is("put of a LONG", x.out(1), 0);
+        Case.is("put of a char", x.out(2), 255);
+        Case.is("both ways", x.agree(0, 0, 127, 4294967295L, 0, 0), 1);
+        Case.value("int f(int n){int b=7;if(n)return *&b;return 0;}", 1, 0, 7);
+        Case.value("char f(int n){return n;}", 300, 0, 44);
+        Case.value("int f(long n){return n;}", 1L << 32 | 5, 0, 5);
+        Case.value("long f(int n){return n;}", -5, 0, -5);
+    }
+
+    /** The number of no function is TABLE also for a FUNCTION POINTER of nothing and void. */
+    private static void wrongNumbersOfVoid() {
+        for (String pointer : new String[] {"void(*y)()", "int(*y)()"}) {
+            Codekiln x = Case.loaded(pointer + ";int f(int n){*(int*)16=n;y();return 7;}" + (pointer.startsWith("v") ? "void" : "int") + " g(){}");
+            int[] numbers = {0, 1, 2, 3, 4, -1, -2, 12, 13, Integer.MIN_VALUE, Integer.MAX_VALUE};
+            for (int n : numbers) {
+                Case.is("the number " + n + " by " + pointer, x.mean(0, 0, n, 0, 0), n == 2 ? 0 : 3);
+                Case.is("both ways", x.agree(0, 0, 0, n, 0, 0), 1);
+                Case.is("both ways", x.agree(0, 0, 127, n, 0, 0), 1);
+            }
+        }
+    }
+
+    /** return without exp ends the function, in whatever it stands. */
+    private static void returnsOfNothing() {
+        String[] bodies = {"if(n)return;put(1);", "while(1){if(n)return;put(1);n=1;}", "switch(n){case 1:return;default:put(1);}put(2);",
+            "do{for(;;){if(n>0)return;put(1);n++;}}while(1);", "return;put(1);", "{{return;}}put(1);"};
+        int[][] puts = {{1, 0}, {1, 0}, {2, 0}, {1, 0}, {0, 0}, {0, 0}};
+        for (int k = 0; k < bodies.length; k++) {
+            Codekiln x = Case.loaded("void g(int n){" + bodies[k] + "}void f(int n){g(n);put(9);}");
+            for (int n = 0; n < 2; n++) {
+                Case.is("end of " + bodies[k], x.mean(0, 0, n, 0, 0), 0);
+                Case.is("value", x.meant(0), 0);
+                Case.is("puts of " + bodies[k], x.meant(3), puts[k][n]);
+                Case.is("called", x.mean(0, 1, n, 0, 0), 0);
+                Case.is("puts of " + bodies[k] + ", called", x.meant(3), puts[k][n] + 1);
+                Case.is("both ways", x.agree(0, 1, 0, n, 0, 0), 1);
+                Case.is("both ways", x.agree(0, 1, 127, n, 0, 0), 1);
+            }
+        }
+    }
+
+    /** What an exp gives, and nobody takes, does not add up, however long it goes on. */
+    private static void droppedValues() {
+        Codekiln x = Case.loaded("int f(int n){int i;int s=0;for(i=0;i<n;i++){i;s+=i;-i;i*2;s;}return s;}void g(){}int h(int n){int s=0;"
+            + "while(s<n){s++;g();s;s;}return s;}int k(int n){int i;int j;for(i=0;i<n;i+=50)for(j=0;j<49;j++){j;j;j;j;}return i;}");
+        Case.is("a long loop", x.mean(0, 0, 2998, 0, 0), 0);
+        Case.is("its value", x.meant(0), 2997 * 2998 / 2);
+        Case.is("TICKS", x.meant(1), 3000);
+        Case.is("one round more", x.mean(0, 0, 2999, 0, 0), 4);
+        Case.is("calls of void", x.mean(0, 2, 1499, 0, 0), 0);
+        Case.is("its value", x.meant(0), 1499);
+        Case.is("TICKS", x.meant(1), 3000);
+        Case.is("one call more", x.mean(0, 2, 1500, 0, 0), 4);
+        Case.is("loops in loops", x.mean(0, 3, 2800, 0, 0), 0);
+        Case.is("its value", x.meant(0), 2800);
+    }
+
+    /** The least NUMBER of an array is 1: it is an array all the same. */
+    private static void arraysOfOneCell() {
+        Case.value("int a[1]={5};int f(){return *a+a[0];}", 10);
+        Case.value("int f(){int a[1];a[0]=6;return *a;}", 6);
+        Case.value("int b;int a[1];int f(){return (int)a;}", 20);
+        Case.value("int f(){int b[3];int a[1];return (int)a-(int)b;}", 12);
+        Case.value("char a[1]=\"\";char*f=\"x\";int h(){return a[0]+*f;}", 'x');
+        Case.value("char a[1]={7};int f(){return *a;}", 7);
+        Case.value("long a[1]={-7L};long f(){long*p=a;return *p;}", -7);
+        Codekiln x = Case.loaded("char a[1]=\"\";char b=3;int f(){char c[1];return 1;}");
+        Case.is("its cells", x.globalIs(0, 0, 1), 1);
+        Case.is("none", x.globalIs(0, 1, 1), 0);
+        Case.is("the place behind", x.globalIs(0, 1, 2), 17);
+        Case.is("all bytes", x.programIs(0, 3), 2);
+        Case.is("cells of a local", x.variableIs(0, 0, 0, 1), 1);
+        Case.is("PLACED", x.functionIs(0, 0, 2), 1);
+        Case.is("FRAME", x.functionIs(0, 0, 3), 8);
+        Case.codeOf("char b;char a[1];int f(){return a[0];}", "65.17 65.0 106 45.0 15 65.0 11");
+        Case.codeOf("int f(){int a[1];a;return 1;}", "35.0 65.8 107 34.0 36.0 32.0 65.0 106 26 65.1 32.0 65.8 106 36.0 15 65.0 32.0 65.8 106 36.0 11");
+        Case.faultAt(3, "int a[1];void f(){a@=0;}");
+        Case.faultAt(3, "void f(){int a[1];a@=0;}");
+        Case.faultAt(3, "int a[1];void f(){a@++;}");
+        Case.faultAt(3, "char a[1]=@\"x\";");
+        // A ROW of a first GLOBAL lies in its array, that of a later one, too.
+        Codekiln y = Case.loaded("char a[3]=\"hi\";char b[4]=\"you\";char*c=\"a\";");
+        byte[] due = {'h', 'i', 0, 'y', 'o', 'u', 0, 0, 28, 0, 0, 0, 'a', 0};
+        for (int k = 0; k < due.length; k++) {
+            Case.is("byte " + (16 + k), y.firstByte(0, 16 + k), due[k]);
+        }
+        Case.is("all bytes", y.programIs(0, 3), 14);
+    }
+
+    /** Behind 0 a place is a word with its sign, and a long of it keeps that. */
+    private static void placesThatGoRound() {
+        Codekiln x = Case.loaded("long f(int n){int b;int a[200];char c[200];if(n)return f(n-1);return (long)&b;}"
+            + "long g(int n){int a[200];char c[200];if(n)return g(n-1);return (long)a;}long h(int n){int a[200];char c[200];if(n)return h(n-1);return (long)(c+1);}"
+            + "int k(int n){int b;int a[200];if(n)return k(n-1);return &b<a;}");
+        for (int n = 0; n < 24; n++) {
+            Case.is("end", x.mean(0, 0, n, 0, 0), 0);
+            Case.is("& in the call " + n, x.meant(0), 4096 - 1008L * (n + 1));
+            Case.is("both ways", x.agree(0, 0, 127, n, 0, 0), 1);
+            x.mean(0, 1, n, 0, 0);
+            Case.is("array in the call " + n, x.meant(0), 4096 - 1000L * (n + 1));
+            Case.is("both ways", x.agree(0, 1, 127, n, 0, 0), 1);
+            x.mean(0, 2, n, 0, 0);
+            Case.is("array and 1 in the call " + n, x.meant(0), 4096 - 1000L * (n + 1) + 801);
+            Case.is("both ways", x.agree(0, 2, 127, n, 0, 0), 1);
+            Case.is("both ways", x.agree(0, 3, 127, n, 0, 0), 1);
+        }
     }
 }

@@ -403,6 +403,29 @@ public final class TypeEdgeTest {
         Case.is("local of a fault", fault("int k=p*q;"), "3 at " + ((HEAD + IN).length() + 7));
         Case.is("return of a fault", fault("return p*q;"), "3 at " + (HEAD + IN).length());
         Case.faultAt(3, "int a(int*b){return b@*b;}");
+        // A choice of which a part has a fault has no type: what holds it is not asked, though its token stands ahead.
+        Case.faultAt(3, "void a(int*b){b=@get?1:2;}");
+        Case.faultAt(3, "void a(int*b){b=1?@get:2;}");
+        Case.faultAt(3, "void a(int*b){b=1?2:@get;}");
+        Case.faultAt(3, "void a(int*b){1?b:@get;}");
+        Case.faultAt(3, "void a(int*b){put(0)?b:@get;}");
+        Case.faultAt(3, "void a(int*b){b=put(0)@?1:2;}");
+        Case.faultAt(3, "void a(int*b){b=1?b@:2;}");
+        Case.faultAt(3, "int*a(int b){if(b)return b?@get:b;return 0;}");
+        // So has a call of which an exp does not CONVERT, and one by a NAME that cannot be called so.
+        Case.faultAt(3, "int a(int b);void c(int*d){d=a(@d);}int a(int b){return 1;}");
+        Case.faultAt(3, "int a(int b,int e);void c(int*d){d=a(1,@d);}int a(int b,int e){return 1;}");
+        Case.faultAt(3, "int a(int b,int e);void c(int*d){d=a(@d,d);}int a(int b,int e){return 1;}");
+        Case.faultAt(3, "int a(int b);void c(int*d){d=@a();}int a(int b){return 1;}");
+        Case.faultAt(3, "int a(int b);void c(int*d){d=@d(1);}int a(int b){return 1;}");
+        Case.faultAt(3, "int a(int b);int*c(int*d){return a(@d);}int a(int b){return 1;}");
+        Case.faultAt(3, "void c(int*d){d=d[1@[2]];}");
+        Case.faultAt(3, "void c(int*d){d=-@get;}");
+        Case.faultAt(3, "void c(int*d){d=(int)@get;}");
+        Case.faultAt(3, "void c(int*d){d=1&&@get;}");
+        Case.faultAt(3, "void c(int*d){d=@get||1;}");
+        Case.faultAt(3, "void c(int*d){d=1=@get;}");
+        Case.faultAt(3, "void c(int*d){d@=1;}");
         // The first by its place, things and functions in any order.
         Case.faultAt(3, "int a(){return 1@[2];}int*b=1;");
         Case.faultAt(3, "int*b=@1;int a(){return 1[2];}");
