@@ -31,6 +31,11 @@ public final class BytesEdgeTest {
         written();
         theBytes();
         sameInAll();
+        fewestGroups();
+        sizesOfSections();
+        secondOfTwo();
+        notChangingOnes();
+        sameInEachRow();
         Case.end();
     }
 
@@ -786,5 +791,248 @@ public final class BytesEdgeTest {
         Case.is("read", y.read(), 1);
         Case.is("same in more groups", y.same(0, 1), true);
         Case.is("as long as written", y.moduleIs(0, 8), y.moduleIs(1, 8));
+    }
+
+    private static int[] bytesOf(Codekiln x) {
+        ArrayList<Integer> all = new ArrayList<>();
+        for (int k = 0; x.byteAt(k) != -1; k++) {
+            all.add(x.byteAt(k));
+        }
+        return all.stream().mapToInt(k -> k).toArray();
+    }
+
+    private static int[] fewest(long number) {
+        int many = 1;
+        while (many < 10 && (number >> 7 * many - 1) != 0 && (number >> 7 * many - 1) != -1) {
+            many++;
+        }
+        return groups(number, many);
+    }
+
+    /** All sections, some of them put in, those that may not lack as nothing. */
+    private static int[] full(int[]... told) {
+        int[] all = new int[0];
+        for (int id = 1; id <= 11; id++) {
+            int[] one = id == 4 || id == 5 || id == 8 ? new int[0] : section(id, 0);
+            for (int[] section : told) {
+                one = section[0] == id ? section : one;
+            }
+            all = row(all, one);
+        }
+        return whole(all);
+    }
+
+    /** What is written of bytes, and read again, and written again. */
+    private static void writtenAs(String what, int[] due, int[] given) {
+        Codekiln x = typed(given);
+        Case.is("read of " + what, fault(x), "none");
+        Case.is("moduleIs 8 of " + what, x.moduleIs(0, 8), due.length);
+        Case.is("write of " + what, x.write(0), due.length);
+        Case.is("bytes of " + what, java.util.Arrays.toString(bytesOf(x)), java.util.Arrays.toString(due));
+        Case.is("read again", x.read(), 1);
+        Case.is("the same", x.same(0, 1), true);
+        Case.is("errors", x.errors(), 0);
+    }
+
+    /** A number is written in as few groups as needed, however it was read. */
+    private static void fewestGroups() {
+        int[] type = section(1, 1, 96, 0, 0);
+        int[] own = section(3, 1, 0);
+        int[] memory = section(5, 1, 1, 1, 8);
+        for (int bit = 0; bit < 33; bit++) {
+            for (long offset = (1L << bit) - 2; offset <= (1L << bit) + 1; offset++) {
+                if (offset >= 0 && offset < 1L << 32) {
+                    int[] due = full(type, own, memory, section(10, 1, code(0, 65, 0, 40, 2, number(offset), 26, 11)));
+                    writtenAs("an offset " + offset, due, due);
+                    writtenAs("an offset " + offset, due, full(type, own, memory, section(10, 1, code(0, 65, 0, 40, 2, groups(offset, 5), 26, 11))));
+                }
+            }
+        }
+        for (int bit = 0; bit < 64; bit++) {
+            for (int more = -2; more < 2; more++) {
+                for (int sign = -1; sign < 2; sign += 2) {
+                    long one = bit == 63 && more < 0 ? Long.MAX_VALUE + more + 1 : sign * ((1L << bit) + more);
+                    int[] due = full(type, own, section(6, 1, 126, 1, 66, fewest(one), 11), section(10, 1, code(0, 66, fewest(one), 26, 11)));
+                    writtenAs("a LONG " + one, due, due);
+                    writtenAs("a LONG " + one, due,
+                        full(type, own, section(6, 1, 126, 1, 66, groups(one, 10), 11), section(10, 1, code(0, 66, groups(one, 10), 26, 11))));
+                    if (one == (int) one) {
+                        int[] word = full(type, own, section(6, 1, 127, 1, 65, fewest(one), 11), section(10, 1, code(0, 65, fewest(one), 26, 11)));
+                        writtenAs("a word " + one, word, word);
+                        writtenAs("a word " + one, word,
+                            full(type, own, section(6, 1, 127, 1, 65, groups(one, 5), 11), section(10, 1, code(0, 65, groups(one, 5), 26, 11))));
+                    }
+                }
+            }
+        }
+        for (int place : new int[] {0, 1, 63, 64, 65, 4094, 4095, 4096, 8190, 8191}) {
+            int[] due = full(section(5, 1, 1, 8, 8), section(11, 1, 0, 65, fewest(place), 11, 1, 200));
+            writtenAs("a place " + place, due, due);
+            writtenAs("a place " + place, due, full(section(5, 1, 1, 8, 8), section(11, 1, 0, 65, groups(place, 5), 11, 129, 0, 200)));
+        }
+        for (int local : new int[] {0, 1, 63, 64, 127, 128, 129, 249}) {
+            int[] due = full(type, own, section(10, 1, code(1, number(250), 127, 32, number(local), 26, 11)));
+            writtenAs("a local " + local, due, due);
+        }
+        bad("a LONG global in 11 groups", section(6, 1, 126, 1, 66, HERE, groups(0, 11), 11));
+        bad("a LONG global in 11 groups", section(6, 1, 126, 1, 66, HERE, groups(-1, 11), 11));
+        bad("a word global in 6 groups", section(6, 1, 127, 1, 65, HERE, groups(-1, 6), 11));
+        bad("a place in 6 groups", section(5, 1, 1, 8, 8), section(11, 1, 0, 65, HERE, groups(0, 6), 11, 0));
+        bad("an entry in 6 groups", section(4, 1, 112, 0, 8), section(9, 1, 0, 65, HERE, groups(0, 6), 11, 0));
+    }
+
+    /** The size of a code, and of a section, where it needs one more group. */
+    private static void sizesOfSections() {
+        int[] type = section(1, 1, 96, 0, 0);
+        for (int nops = 114; nops < 132; nops++) {
+            int[] due = full(type, section(3, 1, 0), section(10, 1, code(0, times(nops, 1), 11)));
+            writtenAs(nops + " nops", due, due);
+        }
+        for (int many : new int[] {8178, 8179, 8185, 8190, 8200, 12000, 16371, 16372, 16373, 16374, 16375, 16376, 16377, 16378, 16379, 16380, 16381, 19000}) {
+            int[] codes = row(4);
+            for (int k = 0; k < 4; k++) {
+                codes = row(codes, code(0, times(many / 4 + (k < many % 4 ? 1 : 0), 1), 11));
+            }
+            int[] due = full(type, section(3, 4, 0, 0, 0, 0), section(10, codes));
+            Codekiln x = typed(due);
+            Case.is("read of " + many + " nops", fault(x), "none");
+            Case.is("write of " + many + " nops", x.write(0), due.length);
+            int sum = 17;
+            for (int one : due) {
+                sum = sum * 31 + one;
+            }
+            Case.is("sum of " + many + " nops", x.checksum(), sum);
+        }
+        for (int bytes : new int[] {119, 120, 121, 122, 123, 127, 128, 3999, 4000}) {
+            int[] due = full(section(5, 1, 1, 8, 8), section(11, 1, 0, 65, 0, 11, number(bytes), times(bytes, 7)));
+            writtenAs(bytes + " bytes of data", due, due);
+        }
+    }
+
+    /** The second element, and data, is looked at as the first one is. */
+    private static void secondOfTwo() {
+        int[] ahead = row(TYPES, section(3, 1, 0), section(4, 1, 112, 0, 9));
+        int[] codes = section(10, 1, 2, 0, 11);
+        good("a second element up to the last entry", ahead, section(9, 2, 0, 65, 0, 11, 2, 0, 0, 0, 65, 6, 11, 3, 0, 0, 0), codes);
+        wrong(9, "a second element beyond it", ahead, section(9, 2, 0, 65, 0, 11, 2, 0, 0, 0, 65, 7, 11, 3, 0, 0, 0), codes);
+        wrong(9, "a first element beyond it", ahead, section(9, 2, 0, 65, 7, 11, 3, 0, 0, 0, 0, 65, 0, 11, 1, 0), codes);
+        wrong(9, "a second element below 0", ahead, section(9, 2, 0, 65, 0, 11, 1, 0, 0, 65, 127, 11, 0), codes);
+        wrong(9, "a second element's last function", ahead, section(9, 2, 0, 65, 0, 11, 1, 0, 0, 65, 2, 11, 2, 0, 1), codes);
+        wrong(9, "a first element's last function", ahead, section(9, 2, 0, 65, 0, 11, 2, 0, 1, 0, 65, 2, 11, 1, 0), codes);
+        int[] memory = section(5, 1, 1, 1, 1);
+        good("a second data up to the last byte", memory, section(11, 2, 0, 65, 0, 11, 9, times(9, 1), 0, 65, groups(1022, 2), 11, 2, 5, 5));
+        wrong(11, "a second data beyond it", memory, section(11, 2, 0, 65, 0, 11, 9, times(9, 1), 0, 65, groups(1023, 2), 11, 2, 5, 5));
+        good("a short one behind a long one", memory, section(11, 2, 0, 65, groups(1015, 2), 11, 9, times(9, 1), 0, 65, groups(1023, 2), 11, 1, 5));
+        wrong(11, "a first data beyond it", memory, section(11, 2, 0, 65, groups(1016, 2), 11, 9, times(9, 1), 0, 65, 0, 11, 1, 5));
+        wrong(11, "a second data below 0", memory, section(11, 2, 0, 65, 0, 11, 9, times(9, 1), 0, 65, 127, 11, 0));
+        wrong(7, "a second export", TYPES, section(3, 1, 0), section(7, 2, 1, "a", 0, 0, 1, "b", 0, 1), codes);
+        wrong(3, "a second type", TYPES, section(3, 2, 0, 4), section(10, 2, 2, 0, 11, 2, 0, 11));
+        good("the last type", TYPES, section(3, 2, 0, 3), section(10, 2, 2, 0, 11, code(0, 66, 0, 11)));
+        wrong(10, "one code too many", TYPES, section(3, 1, 0), section(10, 2, 2, 0, 11, 2, 0, 11));
+        wrong(10, "one code too few", TYPES, section(3, 2, 0, 0), section(10, 1, 2, 0, 11));
+        bad("a wrong byte in a code too many", TYPES, section(3, 1, 0), section(10, 2, 2, 0, 11, 2, 0, HERE, 10));
+    }
+
+    /** Whether a global changes stands in what is written. */
+    private static void notChangingOnes() {
+        for (int changing = 0; changing < 2; changing++) {
+            for (int sort = 126; sort < 128; sort++) {
+                int[] global = section(6, 1, sort, changing, sort == 127 ? 65 : 66, 5, 11);
+                int[] due = full(section(1, 1, 96, 0, 0), section(3, 1, 0), global, section(10, 1, code(0, 35, 0, 26, 11)));
+                writtenAs("a global", due, due);
+                int[] set = whole(section(1, 1, 96, 0, 0), section(3, 1, 0), global, section(10, 1, code(0, 35, 0, 36, 0, 11)));
+                Case.is("one that is set", fault(typed(set)), changing == 1 ? "none" : "3 at 1");
+            }
+        }
+    }
+
+    private static void differ(String what, int[] one, int[] other) {
+        Codekiln x = typed(one);
+        Case.is("read of one, " + what, fault(x), "none");
+        Case.setBytes(x, other);
+        Case.is("read of the other, " + what + ", at " + x.fault(false), x.read(), 1);
+        Case.is("same, " + what, x.same(0, 1), false);
+        Case.is("same the other way, " + what, x.same(1, 0), false);
+        Case.is("same as itself", x.same(0, 0) && x.same(1, 1), true);
+    }
+
+    /** The first and the last in each row count. */
+    private static void sameInEachRow() {
+        differ("a first parameter", whole(section(1, 1, 96, 3, 127, 127, 127, 0)), whole(section(1, 1, 96, 3, 126, 127, 127, 0)));
+        differ("a last parameter", whole(section(1, 1, 96, 3, 127, 127, 127, 0)), whole(section(1, 1, 96, 3, 127, 127, 126, 0)));
+        differ("a parameter more", whole(section(1, 1, 96, 2, 127, 127, 0)), whole(section(1, 1, 96, 3, 127, 127, 127, 0)));
+        differ("a value or none", whole(section(1, 1, 96, 0, 0)), whole(section(1, 1, 96, 0, 1, 127)));
+        differ("the first type", whole(section(1, 2, 96, 0, 0, 96, 0, 0)), whole(section(1, 2, 96, 0, 1, 126, 96, 0, 0)));
+        differ("the last type", whole(section(1, 2, 96, 0, 0, 96, 0, 0)), whole(section(1, 2, 96, 0, 0, 96, 1, 126, 0)));
+        int[] types = section(1, 4, 96, 0, 1, 127, 96, 1, 127, 0, 96, 0, 1, 127, 96, 1, 127, 0);
+        int[] get = row(1, "h", 3, "get", 0, 0);
+        int[] put = row(1, "h", 3, "put", 0, 1);
+        differ("imports", whole(types, section(2, 1, get)), whole(types, section(2, 1, put)));
+        differ("types of imports", whole(types, section(2, 1, get)), whole(types, section(2, 1, 1, "h", 3, "get", 0, 2)));
+        differ("the last of 4 imports", whole(types, section(2, 4, get, get, get, get)), whole(types, section(2, 4, get, get, get, put)));
+        differ("the type of the last of 4", whole(types, section(2, 4, get, get, get, put)), whole(types, section(2, 4, get, get, get, 1, "h", 3, "put", 0, 3)));
+        differ("an import more", whole(types, section(2, 1, get)), whole(types, section(2, 2, get, get)));
+        int[] own = section(3, 2, 0, 0);
+        int[] codes = section(10, 2, 4, 0, 65, 1, 11, 4, 0, 65, 1, 11);
+        differ("the type of the first", whole(types, own, codes), whole(types, section(3, 2, 2, 0), codes));
+        differ("the type of the last", whole(types, own, codes), whole(types, section(3, 2, 0, 2), codes));
+        differ("a table of none", whole(types), whole(types, section(4, 1, 112, 0, 0)));
+        differ("a memory of none", whole(types), whole(types, section(5, 1, 1, 0, 0)));
+        int[] globals = row(127, 1, 65, 1, 11, 126, 0, 66, 1, 11, 127, 0, 65, 1, 11);
+        for (int at : new int[] {1, 3, 6, 8, 11, 13}) {
+            int[] others = globals.clone();
+            others[at] = at % 5 == 1 ? 1 - others[at] : 2;
+            differ("globals at " + at, whole(section(6, 3, globals)), whole(section(6, 3, others)));
+        }
+        differ("a high bit of a global", whole(section(6, 1, 126, 0, 66, groups(1L << 40, 6), 11)), whole(section(6, 1, 126, 0, 66, 0, 11)));
+        int[] exports = row(2, "ab", 0, 0, 1, "c", 0, 0);
+        for (int at : new int[] {1, 2, 4, 6, 8}) {
+            int[] others = exports.clone();
+            others[at] = others[at] == 0 ? 1 : 'z';
+            differ("exports at " + at, whole(types, own, section(7, 2, exports), codes), whole(types, own, section(7, 2, others), codes));
+        }
+        differ("an export more", whole(types, own, section(7, 1, 1, "a", 0, 0), codes), whole(types, own, section(7, 2, 1, "a", 0, 0, 1, "b", 0, 0), codes));
+        int[] table = section(4, 1, 112, 0, 9);
+        int[] elements = row(0, 65, 1, 11, 2, 0, 0, 0, 65, 4, 11, 2, 0, 0);
+        for (int at : new int[] {2, 5, 6, 9, 12, 13}) {
+            int[] others = elements.clone();
+            others[at] = others[at] == 0 ? 1 : 5;
+            differ("elements at " + at, whole(types, own, table, section(9, 2, elements), codes), whole(types, own, table, section(9, 2, others), codes));
+        }
+        differ("elements cut elsewhere", whole(types, own, table, section(9, 2, 0, 65, 1, 11, 2, 0, 0, 0, 65, 3, 11, 1, 0), codes),
+            whole(types, own, table, section(9, 2, 0, 65, 1, 11, 1, 0, 0, 65, 3, 11, 2, 0, 0), codes));
+        int[] memory = section(5, 1, 1, 1, 1);
+        int[] datas = row(0, 65, 1, 11, 2, 7, 8, 0, 65, 4, 11, 2, 7, 8);
+        for (int at : new int[] {2, 5, 6, 9, 12, 13}) {
+            int[] others = datas.clone();
+            others[at]++;
+            differ("data at " + at, whole(memory, section(11, 2, datas)), whole(memory, section(11, 2, others)));
+        }
+        differ("data cut elsewhere", whole(memory, section(11, 2, 0, 65, 1, 11, 2, 7, 8, 0, 65, 3, 11, 1, 9)),
+            whole(memory, section(11, 2, 0, 65, 1, 11, 1, 7, 0, 65, 3, 11, 2, 8, 9)));
+        sameInstructions(section(1, 2, 96, 0, 0, 96, 0, 0), memory);
+    }
+
+    private static void sameInstructions(int[] types, int[] memory) {
+        int[] own = row(section(3, 2, 0, 0), section(4, 1, 112, 0, 3), memory, section(6, 2, 127, 1, 65, 0, 11, 127, 1, 65, 0, 11));
+        int[] one = row(3, 1, 127, 1, 126, 2, 127, 2, 64, 2, 64, 65, 5, 14, 2, 0, 1, 2, 11, 11, 3, 64, 11, 65, 1, 4, 64, 5, 11, 65, 0, 40, 2, 7, 26, 66, 9, 26, 32, 0, 26,
+            32, 2, 33, 3, 35, 0, 36, 0, 65, 0, 17, 0, 0, 16, 1, 65, 0, 13, 0, 11);
+        int[][] changes = {{2, 126}, {4, 127}, {5, 1}, {7, 3}, {9, 3}, {12, 4}, {15, 1}, {16, 0}, {17, 1}, {20, 2}, {24, 2}, {33, 8}, {36, 8}, {39, 2}, {42, 3}, {44, 2}, {46, 1}, {48, 1},
+            {50, 1}, {52, 1}, {55, 0}, {57, 1}, {58, 12}};
+        int[] due = whole(types, own, section(10, 2, code(one), 2, 0, 11));
+        Case.is("read", fault(typed(due)), "none");
+        int tried = 0;
+        for (int[] change : changes) {
+            int[] other = one.clone();
+            other[change[0]] = change[1];
+            int[] bytes = whole(types, own, section(10, 2, code(other), 2, 0, 11));
+            if (fault(typed(bytes)).equals("none")) {
+                tried++;
+                differ("instructions at " + change[0], due, bytes);
+            }
+        }
+        Case.is("how many of these are VALID", tried > 15, true);
+        differ("a last code", due, whole(types, own, section(10, 2, code(one), 3, 0, 1, 11)));
+        differ("a nop more", due, whole(types, own, section(10, 2, code(java.util.Arrays.copyOf(one, one.length - 1), 1, 11), 2, 0, 11)));
     }
 }

@@ -28,6 +28,16 @@ public final class PassEdgeTest {
         stores();
         shares();
         bits();
+        leavesBehindTheirCallers();
+        closedBlocksDoNotCount();
+        parametersAndLocalsCount();
+        onesAheadFitAgain();
+        ifsFurtherBehind();
+        blocksFitAgain();
+        placesBeyondInnerBlocks();
+        manyLocals();
+        liveInBranches();
+        inlinedByTwos();
         Case.end();
     }
 
@@ -543,5 +553,236 @@ public final class PassEdgeTest {
             Case.is("of a program", x.moduleIs(first, 9), 1);
             x = Case.made("int g(int a){return a*4+0;}int f(int a){int b=g(a);if(1){b=b+g(2);}return b;}");
         }
+    }
+
+    /** A module of functions of nothing and nothing, but the first, of so many i32; each a row of its locals and instructions. */
+    private static Codekiln functions(int parameters, int[]... bodies) {
+        int[] codes = {bodies.length};
+        for (int[] body : bodies) {
+            codes = row(codes, body.length & 127 | 128, body.length >> 7, body);
+        }
+        int[] whole = row(0, 97, 115, 109, 1, 0, 0, 0, 1, 7 + parameters, 2, 96, parameters, times(parameters, 127), 0, 96, 0, 0, 3, bodies.length + 1,
+            bodies.length, 0, times(bodies.length - 1, 1), 7, 5, 1, 1, 102, 0, 1, 10, codes.length & 127 | 128, codes.length >> 7, codes);
+        byte[] all = new byte[whole.length];
+        for (int k = 0; k < all.length; k++) {
+            all[k] = (byte) whole[k];
+        }
+        Codekiln x = new Codekiln();
+        Case.addAll(x, all);
+        Case.is("read, " + x.fault(true) + " at " + x.fault(false), x.read(), 0);
+        return x;
+    }
+
+    /** The first function takes leaves, too, those that stand behind it. */
+    private static void leavesBehindTheirCallers() {
+        Codekiln x = functions(0, row(0, 16, 1, 16, 2, 11), row(0, 1, 11), row(0, 16, 1, 1, 1, 11));
+        x.pass(0, 0);
+        Case.is("the first one", Case.code(x, 1, 0), "2.64 1 11 2.64 2.64 1 11 1 1 11 11");
+        Case.is("the leaf", Case.code(x, 1, 1), "1 11");
+        Case.is("the last one", Case.code(x, 1, 2), "2.64 1 11 1 1 11");
+        Codekiln y = functions(0, row(0, 16, 1, 11), row(0, 16, 0, 11), row(0, 16, 2, 11));
+        y.pass(0, 0);
+        Case.is("round about", Case.code(y, 1, 0), "16.1 11");
+        Case.is("round about", Case.code(y, 1, 1), "16.0 11");
+        Case.is("itself", Case.code(y, 1, 2), "16.2 11");
+    }
+
+    /** Open are those that are open at the place: what is closed ahead of a call does not count, in either function. */
+    private static void closedBlocksDoNotCount() {
+        int[][] closed = {row(2, 64, 11), row(3, 64, 11), row(65, 0, 4, 64, 11), row(65, 0, 4, 64, 5, 11), row(2, 64, 2, 64, 11, 3, 64, 11, 11)};
+        for (int[] one : closed) {
+            Codekiln x = functions(0, row(0, 1, 11), row(0, times(230, one), 16, 0, 11));
+            Case.is("calls left behind 230 closed ones", callsLeft(x), 0);
+            for (int deep = 198; deep < 202; deep++) {
+                Codekiln y = functions(0, row(0, 1, 11), row(0, times(40, one), times(deep, 2, 64), 16, 0, times(deep, 11), times(40, one), 11));
+                Case.is("calls left behind 40 closed ones, within " + deep, callsLeft(y), deep < 200 ? 0 : 1);
+                Codekiln z = functions(0, row(0, 1, 11), row(0, times(40, one), times(deep, 3, 64), 1, times(deep, 11), times(40, one), 16, 0, 11));
+                Case.is("calls left behind some that are closed, too, " + deep, callsLeft(z), deep < 201 ? 0 : 1);
+            }
+        }
+        // In the leaf: two, each with one in it, beside one another are 2 deep.
+        int[] leaf = row(0, 2, 64, 2, 64, 11, 11, 3, 64, 65, 0, 4, 64, 11, 11, 11);
+        for (int deep = 196; deep < 200; deep++) {
+            Codekiln x = functions(0, leaf, row(0, times(deep, 2, 64), 16, 0, times(deep, 11), 11));
+            Case.is("calls left of a leaf of 2, within " + deep, callsLeft(x), deep < 198 ? 0 : 1);
+        }
+    }
+
+    /** Behind it at most 1500 instructions: a set for each parameter, two for each other local, a block and its end. */
+    private static void parametersAndLocalsCount() {
+        for (int parameters = 0; parameters < 4; parameters++) {
+            for (int locals = 0; locals < 7; locals += 3) {
+                for (int more = -1; more < 2; more++) {
+                    int leaf = 2;
+                    int nops = 1500 - (parameters + 2 + leaf + parameters + 2 * locals) + more;
+                    Codekiln x = functions(parameters, row(locals > 0 ? row(1, locals, 126) : row(0), 1, 11), row(0, times(parameters, 65, 5), 16, 0, times(nops, 1), 11));
+                    String what = parameters + " parameters and " + locals + " locals: " + (1500 + more);
+                    Case.is(what, callsLeft(x), more <= 0 ? 0 : 1);
+                    Case.is(what, x.functionAt(1, 1, 3), more <= 0 ? 1500 + more : parameters + nops + 2);
+                    Case.is(what, x.functionAt(1, 1, 2), more <= 0 ? parameters + locals : 0);
+                }
+            }
+        }
+    }
+
+    /** What fits only since something behind it went: up to two instructions ahead. */
+    private static void onesAheadFitAgain() {
+        int[][] between = {row(1), row(1, 1), row(172, 167), row(65, 7, 26), row(32, 0, 26), row(35, 0, 26), row(63, 0, 26), row(32, 0, 33, 0), row(65, 0, 106)};
+        for (int k = 0; k < between.length; k++) {
+            int[] gap = between[k];
+            // What works on the word ahead of it, and so cannot stand behind a const without changing it.
+            boolean isWord = k == 2 || k == 8;
+            peep("32.0 4.64 11 65.1 11", 32, 0, 65, 0, 71, gap, 4, 64, 11, 65, 1, 11);
+            peep("2.64 32.0 13.0 11 65.1 11", 2, 64, 32, 0, 65, 0, 71, gap, 13, 0, 11, 65, 1, 11);
+            peep("32.0 69 11", 32, 0, 65, 0, 71, gap, 69, 11);
+            peep("32.0 4.64 11 65.1 11", 32, 0, 69, 69, gap, 4, 64, 11, 65, 1, 11);
+            peep("32.0 32.0 72 11", 32, 0, 32, 0, 72, gap, 65, 0, 71, 11);
+            peep("32.0 32.0 78 11", 32, 0, 32, 0, 72, gap, 69, 11);
+            if (!isWord) {
+                peep("32.0 32.0 72 11", 32, 0, 32, 0, 72, 65, 0, gap, 71, 11);
+                peep("65.12 11", 65, 7, gap, 65, 5, 106, 11);
+                peep("65.12 11", 65, 7, 65, 5, gap, 106, 11);
+                peep("32.0 11", 32, 0, 65, 0, gap, 106, 11);
+                peep("32.0 69 11", 32, 0, 65, 0, gap, 70, 11);
+                peep("32.0 65.3 116 11", 32, 0, 65, 8, gap, 108, 11);
+                peep("2.64 12.0 11 65.1 11", 2, 64, 65, 1, gap, 13, 0, 11, 65, 1, 11);
+                peep("32.0 45.0 11", 32, 0, 45, 0, 0, 65, 255, 1, gap, 113, 11);
+            }
+            peep("65.1 11", 32, 0, gap, 26, 65, 1, 11);
+            peep("32.0 45.0 11", 32, 0, 45, 0, 0, gap, 65, 255, 1, 113, 11);
+            peep("32.0 32.0 58.0 65.1 11", 32, 0, 32, 0, 65, 255, 1, 113, gap, 58, 0, 0, 65, 1, 11);
+            peep("32.0 11", 32, 0, gap, 33, 0, 32, 0, 11);
+            peep("32.0 65.3 34.0 106 11", 32, 0, 65, 3, gap, 33, 0, k == 7 ? row() : row(1), 32, 0, 106, 11);
+        }
+        // Far ahead: each one that goes lets one more fit.
+        peep("65.1 11", times(40, 32, 0), times(40, 26), 65, 1, 11);
+        peep("65.40 11", 65, 0, times(40, 65, 1), times(40, 106), 11);
+    }
+
+    /** A const and an if, wherever it stands: what is behind it stays. */
+    private static void ifsFurtherBehind() {
+        int[] ahead = row(65, 1, 33, 0, 65, 2, 33, 2);
+        String told = "65.1 33.0 65.2 33.2 ";
+        peep(told + "65.1 11", ahead, 65, 0, 4, 64, 11, 65, 1, 11);
+        peep(told + "65.1 11", ahead, 65, 0, 4, 64, 65, 9, 33, 2, 11, 65, 1, 11);
+        peep(told + "65.7 33.2 65.1 11", ahead, 65, 0, 4, 64, 65, 9, 33, 2, 11, 65, 7, 33, 2, 65, 1, 11);
+        peep(told + "2.64 65.9 33.2 11 65.1 11", ahead, 65, 3, 4, 64, 65, 9, 33, 2, 11, 65, 1, 11);
+        peep(told + "2.64 65.9 33.2 11 65.1 11", ahead, 65, 3, 4, 64, 65, 9, 33, 2, 5, 65, 8, 33, 2, 11, 65, 1, 11);
+        peep(told + "2.64 65.8 33.2 11 65.1 11", ahead, 65, 0, 4, 64, 65, 9, 33, 2, 5, 65, 8, 33, 2, 11, 65, 1, 11);
+        peep(told + "2.127 65.8 11 11", ahead, 65, 0, 4, 127, 65, 9, 5, 65, 8, 11, 11);
+        peep(told + "2.127 65.9 11 11", ahead, 65, 128, 127, 4, 127, 65, 9, 5, 65, 8, 11, 11);
+        peep(told + "2.64 65.5 33.2 11 65.1 11", ahead, 65, 1, 4, 64, 65, 0, 4, 64, 65, 4, 33, 2, 11, 65, 5, 33, 2, 11, 65, 1, 11);
+        // Two of them, one in the other, and one behind the other.
+        peep(told + "2.64 2.64 65.4 33.2 11 11 65.1 11", ahead, 65, 1, 4, 64, 65, 1, 4, 64, 65, 4, 33, 2, 11, 11, 65, 1, 11);
+        peep(told + "65.1 11", ahead, 65, 0, 4, 64, 65, 4, 33, 2, 11, 65, 0, 4, 64, 65, 4, 33, 2, 11, 65, 1, 11);
+        // The const may come of what is ahead of it.
+        peep(told + "65.1 11", ahead, 65, 3, 65, 3, 107, 4, 64, 65, 4, 33, 2, 11, 65, 1, 11);
+        peep(told + "2.64 65.4 33.2 11 65.1 11", ahead, 65, 0, 69, 4, 64, 65, 4, 33, 2, 11, 65, 1, 11);
+    }
+
+    /** What is an empty one only since something in it went. */
+    private static void blocksFitAgain() {
+        int[][] empty = {row(2, 64, 11), row(3, 64, 11), row(2, 64, 3, 64, 11, 11), row(2, 64, 11, 3, 64, 11, 2, 64, 11)};
+        for (int[] one : empty) {
+            PassTest.pass(3, "32.0 26 65.1 11", row(32, 0, 4, 64, one, 11, 65, 1, 11));
+            PassTest.pass(3, "32.0 26 65.1 11", row(32, 0, 4, 64, 5, one, 11, 65, 1, 11));
+            PassTest.pass(3, "32.0 26 65.1 11", row(32, 0, 4, 64, one, 5, 11, 65, 1, 11));
+            PassTest.pass(3, "32.0 26 65.1 11", row(32, 0, 4, 64, one, 5, one, 11, 65, 1, 11));
+            PassTest.pass(3, "32.0 4.64 1 11 65.1 11", row(32, 0, 4, 64, 1, 5, one, 11, 65, 1, 11));
+            PassTest.pass(3, "32.0 4.64 5 1 11 65.1 11", row(32, 0, 4, 64, one, 5, 1, 11, 65, 1, 11));
+            PassTest.pass(3, "65.1 11", row(2, 64, one, one, 11, one, 65, 1, one, 11));
+            PassTest.pass(3, "2.64 1 12.0 11 65.1 11", row(2, 64, one, 1, one, 12, 0, one, 11, 65, 1, 11));
+        }
+        PassTest.pass(3, "32.0 26 32.0 26 65.1 11", 32, 0, 4, 64, 11, 32, 0, 4, 64, 5, 11, 65, 1, 11);
+    }
+
+    /** What goes beyond a block that goes is 1 less, also behind inner ones that stay. */
+    private static void placesBeyondInnerBlocks() {
+        PassTest.pass(3, "2.64 2.64 32.0 13.0 11 32.0 13.0 11 65.1 11", 2, 64, 2, 64, 2, 64, 32, 0, 13, 0, 11, 32, 0, 13, 1, 11, 11, 65, 1, 11);
+        PassTest.pass(3, "2.64 3.64 32.0 13.0 11 32.0 14.0,0 11 65.1 11", 2, 64, 2, 64, 3, 64, 32, 0, 13, 0, 11, 32, 0, 14, 1, 1, 1, 11, 11, 65, 1, 11);
+        PassTest.pass(3, "2.64 32.0 4.64 12.1 11 32.0 4.64 12.0 5 12.1 11 32.0 13.0 11 65.1 11",
+            2, 64, 2, 64, 32, 0, 4, 64, 12, 2, 11, 32, 0, 4, 64, 12, 0, 5, 12, 2, 11, 32, 0, 13, 1, 11, 11, 65, 1, 11);
+        PassTest.pass(3, "2.64 2.64 32.0 14.0,1,1 11 32.0 13.0 11 65.1 11", 2, 64, 3, 64, 2, 64, 32, 0, 14, 2, 0, 2, 2, 11, 32, 0, 13, 1, 11, 11, 65, 1, 11);
+        PassTest.pass(3, "65.1 2.64 32.0 13.0 11 12.0 11", 2, 127, 65, 1, 2, 64, 32, 0, 13, 0, 11, 12, 1, 11, 11);
+    }
+
+    private static int[] group(int number) {
+        return number < 128 ? row(number) : row(number & 127 | 128, number >> 7);
+    }
+
+    /** A function of nothing, with so many locals, that sets each and then gets each by a step. */
+    private static Codekiln settingAll(int locals, int step, boolean isAtOnce) {
+        int[] code = row(1, group(locals), 127);
+        for (int k = 0; k < locals; k++) {
+            code = row(code, 65, k & 63, 33, group(k), isAtOnce || k % step != 0 ? row() : row(32, group(k), 26));
+        }
+        for (int k = 0; k < locals && isAtOnce; k += step) {
+            code = row(code, 32, group(k), 26);
+        }
+        return functions(0, row(code, 11), row(0, 11));
+    }
+
+    /** STORES and SHARE tell each of up to 250 locals by itself. */
+    private static void manyLocals() {
+        for (int locals : row(1, 2, 31, 32, 33, 62, 63, 64, 65, 66, 127, 128, 129, 191, 192, 193, 249, 250)) {
+            for (int step = 1; step < 4; step++) {
+                Codekiln x = settingAll(locals, step, true);
+                int got = (locals + step - 1) / step;
+                x.pass(0, 5);
+                Case.is("sets left of " + locals, x.countOf(1, 33), got);
+                Case.is("drops", x.countOf(1, 26), locals);
+                for (int k = 0; k < locals; k++) {
+                    Case.is("local " + k, x.opAt(1, 0, 2 * k + 1, 0), k % step == 0 ? 33 : 26);
+                }
+                x.pass(1, 6);
+                Case.is("locals that are LIVE at once", x.functionAt(2, 0, 2), got);
+                for (int k = 0; k < locals; k += step) {
+                    Case.is("the local " + k + " anew", x.opAt(2, 0, 2 * k + 1, 1), k / step);
+                }
+                x.pass(0, 6);
+                Case.is("with those that are only set: with the first one that is not LIVE then", x.functionAt(3, 0, 2) >= got, true);
+                Case.is("alike", x.alike(0, 0, 96, 0, 0, 0), 1);
+                Codekiln y = settingAll(locals, step, false);
+                y.pass(0, 6);
+                Case.is("locals one behind the other", y.functionAt(1, 0, 2), 1);
+                y.pass(0, 5);
+                Case.is("sets left", y.countOf(2, 33), got);
+            }
+        }
+    }
+
+    /** By the first instruction of an if, of its else, and behind its end. */
+    private static void liveInBranches() {
+        PassTest.pass(5, "65.1 33.2 32.0 4.64 32.2 26 11 65.1 11", 65, 1, 33, 2, 32, 0, 4, 64, 32, 2, 26, 11, 65, 1, 11);
+        PassTest.pass(5, "65.1 33.2 32.0 4.64 1 32.2 26 11 65.1 11", 65, 1, 33, 2, 32, 0, 4, 64, 1, 32, 2, 26, 11, 65, 1, 11);
+        PassTest.pass(5, "65.1 33.2 32.0 4.64 5 32.2 26 11 65.1 11", 65, 1, 33, 2, 32, 0, 4, 64, 5, 32, 2, 26, 11, 65, 1, 11);
+        PassTest.pass(5, "65.1 33.2 32.0 4.64 1 5 1 32.2 26 11 65.1 11", 65, 1, 33, 2, 32, 0, 4, 64, 1, 5, 1, 32, 2, 26, 11, 65, 1, 11);
+        PassTest.pass(5, "65.1 33.2 32.0 4.64 65.5 33.2 11 32.2 11", 65, 1, 33, 2, 32, 0, 4, 64, 65, 5, 33, 2, 11, 32, 2, 11);
+        PassTest.pass(5, "65.1 26 32.0 4.64 65.5 33.2 5 65.6 33.2 11 32.2 11", 65, 1, 33, 2, 32, 0, 4, 64, 65, 5, 33, 2, 5, 65, 6, 33, 2, 11, 32, 2, 11);
+        PassTest.pass(5, "65.1 33.2 32.0 4.64 5 65.6 33.2 11 32.2 11", 65, 1, 33, 2, 32, 0, 4, 64, 5, 65, 6, 33, 2, 11, 32, 2, 11);
+        PassTest.pass(5, "65.1 33.2 32.0 4.64 65.5 33.2 5 11 32.2 11", 65, 1, 33, 2, 32, 0, 4, 64, 65, 5, 33, 2, 5, 11, 32, 2, 11);
+        PassTest.pass(5, "65.1 26 32.0 4.64 65.5 33.2 32.2 26 11 65.1 11", 65, 1, 33, 2, 32, 0, 4, 64, 65, 5, 33, 2, 32, 2, 26, 11, 65, 1, 11);
+        // Behind the then, the else is jumped over.
+        PassTest.pass(5, "32.0 4.64 65.1 26 5 32.2 26 11 65.1 11", 32, 0, 4, 64, 65, 1, 33, 2, 5, 32, 2, 26, 11, 65, 1, 11);
+        PassTest.pass(5, "32.0 4.64 65.1 33.2 5 65.2 33.2 11 32.2 11", 32, 0, 4, 64, 65, 1, 33, 2, 5, 65, 2, 33, 2, 11, 32, 2, 11);
+        // By br_if on from there, and to the end of its block, or the beginning of its loop.
+        PassTest.pass(5, "65.1 33.2 2.64 32.0 13.0 32.2 26 11 65.1 11", 65, 1, 33, 2, 2, 64, 32, 0, 13, 0, 32, 2, 26, 11, 65, 1, 11);
+        PassTest.pass(5, "65.1 33.2 2.64 32.0 13.0 65.2 33.2 11 32.2 11", 65, 1, 33, 2, 2, 64, 32, 0, 13, 0, 65, 2, 33, 2, 11, 32, 2, 11);
+        PassTest.pass(5, "3.64 32.2 26 65.3 33.2 32.0 13.0 65.2 33.2 11 32.2 11",
+            3, 64, 32, 2, 26, 65, 3, 33, 2, 32, 0, 13, 0, 65, 2, 33, 2, 11, 32, 2, 11);
+        PassTest.pass(5, "2.64 65.3 33.2 12.0 32.2 26 11 32.2 11", 2, 64, 65, 3, 33, 2, 12, 0, 32, 2, 26, 11, 32, 2, 11);
+        PassTest.pass(5, "2.64 65.3 26 12.0 32.2 26 11 65.2 11", 2, 64, 65, 3, 33, 2, 12, 0, 32, 2, 26, 11, 65, 2, 11);
+    }
+
+    /** Leaves one behind the other: what comes of the first one moves the second one. */
+    private static void inlinedByTwos() {
+        Codekiln x = functions(2, row(1, 1, 126, 32, 0, 4, 64, 15, 11, 32, 1, 26, 11), row(1, 1, 127, 65, 1, 65, 2, 16, 0, 2, 64, 65, 3, 65, 4, 16, 0, 11, 32, 0, 26, 11));
+        x.pass(0, 0);
+        Case.is("code", Case.code(x, 1, 1), "65.1 65.2 33.2 33.1 66.0 33.3 2.64 32.1 4.64 12.1 11 32.2 26 11 "
+            + "2.64 65.3 65.4 33.5 33.4 66.0 33.6 2.64 32.4 4.64 12.1 11 32.5 26 11 11 32.0 26 11");
+        Case.is("locals", Case.locals(x, 1, 1), "[127, 127, 127, 126, 127, 127, 126]");
+        Case.is("alike", x.alike(0, 0, 1, 0, 0, 0), 1);
+        Case.is("steady", x.isSteady(0, 0), true);
+        Case.is("errors", x.errors(), 0);
     }
 }

@@ -25,6 +25,14 @@ public final class RunEdgeTest {
         runsAndTheirNumbers();
         values();
         means();
+        stackOfEachStep();
+        whereJumpsGo();
+        heightsOfJumps();
+        sixOfEach();
+        fourImports();
+        muchOnTheStack();
+        boundsOfAlike();
+        boundsOfAgree();
         Case.end();
     }
 
@@ -611,5 +619,333 @@ public final class RunEdgeTest {
         Case.is("80000 of 3", x.meanSteps() == 80000.0 / 3.0, true);
         x.dropRun(0);
         Case.is("79999 of 2", x.meanSteps() == 39999.5, true);
+    }
+
+    /** A run that has done so many steps. */
+    private static Codekiln stepped(Codekiln x, int steps, long first) {
+        x.begin(0, 0, first, 6, 7);
+        Case.is("steps", x.step(0, steps), steps);
+        return x;
+    }
+
+    /** What lies on the stack of the newest frame, the top last. */
+    private static String stack(Codekiln x, int many) {
+        StringBuilder all = new StringBuilder();
+        for (int k = many - 1; k >= 0; k--) {
+            all.append(x.stackAt(0, k)).append(k > 0 ? " " : "");
+        }
+        Case.noElement("below all", () -> x.stackAt(0, many));
+        return all.toString();
+    }
+
+    private static String stack(Codekiln x) {
+        return stack(x, x.runAt(0, 3));
+    }
+
+    /** Each instruction takes as many as it takes, and leaves what lies below. */
+    private static void stackOfEachStep() {
+        Object[][] due = {{a(26), "9 8"}, {a(1), "9 8 5"}, {a(106), "9 13"}, {a(107), "9 3"}, {a(108), "9 40"}, {a(109), "9 1"}, {a(111), "9 3"}, {a(113), "9 0"},
+            {a(114), "9 13"}, {a(115), "9 13"}, {a(116), "9 256"}, {a(117), "9 0"}, {a(118), "9 0"}, {a(69), "9 8 0"}, {a(70), "9 0"}, {a(71), "9 1"},
+            {a(72), "9 0"}, {a(73), "9 0"}, {a(74), "9 1"}, {a(75), "9 1"}, {a(76), "9 0"}, {a(77), "9 0"}, {a(78), "9 1"}, {a(79), "9 1"}, {a(172), "9 8 5"},
+            {a(27), "9"}, {a(32, 1), "9 8 5 6"}, {a(33, 1), "9 8"}, {a(34, 1), "9 8 5"}, {a(40, 2, 0), "9 8 0"}, {a(41, 3, 0), "9 8 0"}, {a(45, 0, 0), "9 8 0"},
+            {a(54, 2, 0), "9"}, {a(58, 0, 0), "9"}, {a(63, 0), "9 8 5 1"}, {a(64, 0), "9 8 -1"}, {a(65, 4), "9 8 5 4"}, {a(66, 3), "9 8 5 3"}};
+        for (Object[] one : due) {
+            int[] op = (int[]) one[0];
+            Codekiln x = stepped(one(1, 1, row(a(65, 9, 65, 8, 65, 5), op, a(65, 1, 15, 11))), 4, 5);
+            Case.is("the stack behind " + op[0], stack(x), (String) one[1]);
+            Case.is("what lies on all stacks", x.runAt(0, 3), ((String) one[1]).split(" ").length);
+            Case.is("goes on behind it", x.runAt(0, 10), 4);
+            Case.is("frames", x.runAt(0, 2), 1);
+        }
+        // select keeps, of two, the lower one by a test that is not 0, and else the upper one.
+        Case.is("the lower one", stack(stepped(one(1, 1, 65, 9, 65, 8, 65, 7, 65, 5, 27, 65, 1, 15, 11), 5, 5)), "9 8");
+        Case.is("the upper one", stack(stepped(one(1, 1, 65, 9, 65, 8, 65, 7, 65, 0, 27, 65, 1, 15, 11), 5, 5)), "9 7");
+        Case.is("of i64", stack(stepped(one(1, 1, 65, 9, 66, 8, 66, 5, 125, 65, 1, 15, 11), 4, 5)), "9 3");
+        Case.is("wrap", stack(stepped(one(1, 1, 65, 9, 66, 8, 167, 65, 1, 15, 11), 3, 5)), "9 8");
+        Case.is("eqz of i64", stack(stepped(one(1, 1, 65, 9, 66, 0, 80, 65, 1, 15, 11), 3, 5)), "9 1");
+        Case.is("store of i64", stack(stepped(one(1, 1, 65, 9, 65, 8, 66, 5, 55, 3, 0, 65, 1, 15, 11), 4, 5)), "9");
+        Codekiln y = stepped(one(1, 1, 65, 9, 65, 8, 33, 1, 34, 0, 65, 1, 15, 11), 4, 5);
+        Case.is("set", y.localAt(0, 0, 1), 8);
+        Case.is("tee", y.localAt(0, 0, 0), 9);
+        Case.is("the stack", stack(y), "9");
+    }
+
+    /** The instruction that is next behind so many steps, by a first parameter. */
+    private static void next(int due, int steps, long first, int... code) {
+        Codekiln x = stepped(one(1, 1, code), steps, first);
+        Case.is("next behind " + steps + " steps of " + java.util.Arrays.toString(code) + " by " + first, x.runAt(0, 10), due);
+        Case.is("function at hand", x.runAt(0, 9), due == -1 ? -1 : 0);
+        Case.is("state", x.runAt(0, 0), due == -1 ? 1 : 0);
+        Case.is("steps", x.runAt(0, 1), steps);
+    }
+
+    /** Behind the end of a block or if, at the first instruction of a loop; by if behind its else or end, by else behind its end. */
+    private static void whereJumpsGo() {
+        next(4, 2, 5, 2, 64, 12, 0, 1, 11, 65, 1, 11);
+        next(1, 2, 5, 3, 64, 12, 0, 1, 11, 65, 1, 11);
+        next(1, 4, 5, 3, 64, 1, 1, 12, 0, 11, 65, 1, 11);
+        next(6, 3, 5, 2, 64, 32, 0, 13, 0, 1, 1, 11, 65, 1, 11);
+        next(3, 3, 0, 2, 64, 32, 0, 13, 0, 1, 1, 11, 65, 1, 11);
+        int[] both = a(32, 0, 4, 64, 1, 5, 1, 1, 11, 65, 1, 11);
+        next(4, 2, 0, both);
+        next(2, 2, 1, both);
+        next(3, 3, 1, both);
+        next(7, 4, 1, both);
+        next(6, 4, 0, both);
+        next(7, 5, 0, both);
+        int[] then = a(32, 0, 4, 64, 1, 11, 65, 1, 11);
+        next(4, 2, 0, then);
+        next(2, 2, -1, then);
+        next(4, 4, -1, then);
+        next(6, 3, 1, 32, 0, 4, 64, 12, 0, 5, 1, 11, 65, 1, 11);
+        next(7, 3, 0, 32, 0, 4, 64, 1, 5, 12, 0, 1, 11, 65, 1, 11);
+        next(5, 3, 5, 2, 64, 3, 64, 12, 1, 11, 11, 65, 1, 11);
+        next(1, 4, 5, 3, 64, 1, 2, 64, 12, 1, 11, 11, 65, 1, 11);
+        next(-1, 2, 5, 65, 1, 12, 0, 11);
+        next(-1, 3, 5, 2, 64, 65, 1, 12, 1, 11, 65, 2, 11);
+        next(-1, 2, 5, 65, 1, 15, 11);
+        next(-1, 2, 5, 65, 1, 11);
+        next(1, 1, 5, 65, 1, 11);
+        for (int first : a(0, 1, 2, -1, Integer.MIN_VALUE)) {
+            next(first == 0 ? 6 : 9, 4, first, 2, 64, 2, 64, 32, 0, 14, 1, 0, 1, 1, 11, 65, 3, 15, 11, 65, 1, 11);
+            next(first == 1 ? 2 : 9, 4, first, 2, 64, 3, 64, 32, 0, 14, 2, 1, 0, 1, 1, 11, 65, 3, 15, 11, 65, 1, 11);
+        }
+    }
+
+    /** A function of nothing that gives so many i32, without any local. */
+    private static Codekiln bare(int gives, int... code) {
+        return read(gives == 1 ? a(1, 1, 96, 0, 1, I) : a(1, 1, 96, 0, 0), a(3, 1, 0), a(7, 1, 1, 'f', 0, 0), Case.codeSection(code));
+    }
+
+    private static void height(String stack, int next, int steps, int... code) {
+        Codekiln x = stepped(bare(0, code), steps, 0);
+        int many = stack.isEmpty() ? 0 : stack.split(" ").length;
+        String what = "behind " + steps + " steps of " + java.util.Arrays.toString(code);
+        Case.is("how much lies there " + what, x.runAt(0, 3), many);
+        Case.is("what lies there " + what, stack(x, many), stack);
+        Case.is("next " + what, x.runAt(0, 10), next);
+        Case.is("to the end", x.step(0, 40) > 0, true);
+    }
+
+    /** The stack is at the height of the block, and its value on that, if it is taken. */
+    private static void heightsOfJumps() {
+        height("", 4, 3, 2, 64, 65, 5, 12, 0, 11, 11);
+        height("", 5, 4, 2, 64, 65, 5, 65, 6, 12, 0, 11, 11);
+        height("", 1, 3, 3, 64, 65, 5, 12, 0, 11, 11);
+        height("6", 5, 4, 2, 127, 65, 5, 65, 6, 12, 0, 11, 26, 11);
+        height("1 2 6", 7, 6, 65, 1, 65, 2, 2, 127, 65, 5, 65, 6, 12, 0, 11, 26, 26, 26, 11);
+        height("1 2", 7, 6, 65, 1, 65, 2, 2, 64, 65, 5, 65, 6, 12, 0, 11, 26, 26, 11);
+        height("1", 2, 5, 65, 1, 3, 64, 65, 5, 65, 6, 12, 0, 11, 26, 11);
+        height("1", 2, 5, 65, 1, 3, 127, 65, 5, 65, 6, 12, 0, 11, 26, 26, 11);
+        height("1 6", 8, 6, 65, 1, 2, 127, 65, 5, 65, 6, 65, 1, 13, 0, 26, 11, 26, 26, 11);
+        height("1 5 6", 6, 6, 65, 1, 2, 127, 65, 5, 65, 6, 65, 0, 13, 0, 26, 11, 26, 26, 11);
+        height("1 6", 7, 6, 65, 1, 2, 127, 65, 5, 65, 6, 65, 0, 14, 0, 0, 11, 26, 26, 11);
+        height("1 6", 9, 7, 65, 1, 2, 127, 2, 127, 65, 5, 65, 6, 65, 0, 14, 0, 1, 11, 11, 26, 26, 11);
+        height("1 7", 9, 6, 65, 1, 65, 1, 4, 127, 65, 5, 65, 7, 12, 0, 5, 65, 6, 11, 26, 26, 11);
+        for (int depth = 0; depth < 3; depth++) {
+            int[] code = row(times(depth, 2, 64), a(65, 9, 65, 7, 12, depth), times(depth, 11), depth > 0 ? a(65, 3, 11) : a(11));
+            Codekiln x = stepped(bare(1, code), depth + 3, 0);
+            Case.is("state", x.runAt(0, 0), 1);
+            Case.is("value", x.value(0), 7);
+            Case.is("nothing lies there", x.runAt(0, 3), 0);
+            Case.is("no frames", x.runAt(0, 2), 0);
+            Case.noElement("stackAt", () -> x.stackAt(0, 0));
+        }
+        Codekiln x = stepped(bare(1, 65, 1, 65, 2, 65, 3, 15, 11), 4, 0);
+        Case.is("return", x.value(0), 3);
+        Codekiln y = read(a(1, 2, 96, 0, 0, 96, 0, 1, I), a(3, 2, 0, 1), a(7, 1, 1, 'f', 0, 0), a(10, 2, 8, 0, 65, 1, 16, 1, 26, 26, 11, 7, 0, 65, 5, 65, 6, 15, 11));
+        stepped(y, 4, 0);
+        Case.is("all stacks", y.runAt(0, 3), 3);
+        Case.is("that of the newest frame", stack(y, 2), "5 6");
+        Case.is("one more", y.step(0, 1), 1);
+        Case.is("behind return", stack(y), "1 6");
+        Case.is("next", y.runAt(0, 10), 2);
+        Case.is("function", y.runAt(0, 9), 0);
+    }
+
+    private static int[] times(int many, int... one) {
+        int[] all = new int[many * one.length];
+        for (int k = 0; k < all.length; k++) {
+            all[k] = one[k % one.length];
+        }
+        return all;
+    }
+
+    /** What is read is written as it was: these bytes are as few as can be. */
+    private static void writtenAsRead(Codekiln x) {
+        int many = 0;
+        while (x.byteAt(many) != -1) {
+            many++;
+        }
+        int[] before = new int[many];
+        for (int k = 0; k < many; k++) {
+            before[k] = x.byteAt(k);
+        }
+        Case.is("as many bytes", x.moduleIs(0, 8), many);
+        Case.is("as many written", x.write(0), many);
+        for (int k = 0; k < many; k++) {
+            Case.is("byte " + k, x.byteAt(k), before[k]);
+        }
+        Case.is("read again", x.read(), 1);
+        Case.is("the same", x.same(0, 1), true);
+    }
+
+    /** 6 elements, 6 data, 6 globals: the first and the last do what they are for. */
+    private static void sixOfEach() {
+        int[] elements = a(9, 6);
+        int[] datas = a(11, 6);
+        int[] globals = a(6, 6);
+        int[] codes = a(10, 8);
+        for (int k = 0; k < 6; k++) {
+            elements = row(elements, a(0, 65, k, 11), k == 5 ? a(2, k, 0) : a(1, k));
+            datas = row(datas, a(0, 65, 10 * k, 11, k + 1), times(k + 1, k + 7));
+            globals = row(globals, k % 2 == 0 ? a(I, k & 1 | k >> 2, 65, k + 20, 11) : a(L, k >> 1 & 1, 66, k + 20, 11));
+            codes = row(codes, a(4, 0, 65, k + 50, 11));
+        }
+        codes = row(codes, a(7, 0, 32, 0, 17, 0, 0, 11), a(7, 0, 65, 9, 36, 4, 0, 11));
+        int[] typed = a(1, 3, 96, 0, 1, I, 96, 1, I, 1, I, 96, 0, 0);
+        int[][] parts = {typed, a(2, 0), a(3, 8, 0, 0, 0, 0, 0, 0, 1, 2), a(4, 1, 112, 0, 8), a(5, 1, 1, 1, 1), globals, a(7, 2, 1, 'f', 0, 6, 1, 'g', 0, 7), elements,
+            codes, datas};
+        Codekiln x = read(parts);
+        writtenAsRead(x);
+        for (int n = 0; n < 9; n++) {
+            int run = x.begin(0, 0, n, 0, 0);
+            x.step(run, 40);
+            Case.is("the entry " + n, x.runAt(run, 0), n < 7 ? 1 : 5);
+            if (n < 7) {
+                Case.is("its function", x.value(run), n < 6 ? 50 + n : 50);
+            }
+            x.dropRun(run);
+        }
+        int run = x.begin(0, 1, 0, 0, 0);
+        for (int k = 0; k < 6; k++) {
+            Case.is("global " + k, x.globalAt(run, k), k + 20);
+            for (int b = 0; b < 9; b++) {
+                Case.is("byte " + b + " of data " + k, x.memoryAt(run, 10 * k + b), b <= k ? k + 7 : 0);
+            }
+        }
+        Case.noIndex("a 7th", () -> x.globalAt(run, 6));
+        x.step(run, 40);
+        Case.is("a changing one", x.globalAt(run, 4), 9);
+    }
+
+    /** 4 imports, each get or put by itself. */
+    private static void fourImports() {
+        int[] imports = a(2, 4, 1, 'h', 3, 'p', 'u', 't', 0, 1, 1, 'h', 3, 'g', 'e', 't', 0, 0, 1, 'h', 3, 'p', 'u', 't', 0, 2, 1, 'h', 3, 'g', 'e', 't', 0, 3);
+        Codekiln x = read(a(1, 4, 96, 0, 1, I, 96, 1, I, 0, 96, 1, I, 0, 96, 0, 1, I), imports, a(3, 1, 0), a(4, 1, 112, 0, 4), a(6, 0), a(7, 1, 1, 'f', 0, 4),
+            a(9, 1, 0, 65, 0, 11, 4, 3, 2, 1, 0), Case.codeSection(65, 7, 16, 0, 65, 8, 16, 2, 16, 1, 16, 3, 107, 65, 3, 65, 3, 17, 1, 0, 65, 0, 17, 0, 0, 106, 11), a(11, 0));
+        writtenAsRead(x);
+        Case.is("imports", x.moduleIs(0, 1), 4);
+        for (int k = 0; k < 4; k++) {
+            Case.is("type of the import " + k, x.functionAt(0, k, 0), a(1, 0, 2, 3)[k]);
+            Case.is("parameters", x.functionAt(0, k, 1), a(1, 0, 1, 0)[k]);
+            Case.is("value", x.functionAt(0, k, 4), a(64, I, 64, I)[k]);
+            Case.is("locals", x.functionAt(0, k, 2), 0);
+            Case.is("instructions", x.functionAt(0, k, 3), 0);
+        }
+        x.feed(20);
+        x.feed(3);
+        x.feed(100);
+        x.begin(0, 0, 0, 0, 0);
+        x.step(0, 40);
+        Case.is("value", x.value(0), 117);
+        Case.is("put by the first", x.outAt(0, 0), 7);
+        Case.is("put by the third", x.outAt(0, 1), 8);
+        Case.is("put by the table", x.outAt(0, 2), 3);
+        Case.is("got", x.runAt(0, 11), 3);
+    }
+
+    /** All locals and stacks of 60 frames are there to be asked. */
+    private static void muchOnTheStack() {
+        int[] code = row(a(1, 100, L), times(50, 65, 3), a(32, 0, 4, I, 32, 0, 65, 1, 107, 34, 0, 16, 0, 5, 65, 9, 11), times(50, 106), a(11));
+        int[] codes = row(a(10, 1, code.length & 127 | 128, code.length >> 7), code);
+        Codekiln x = read(a(1, 1, 96, 1, I, 1, I), a(3, 1, 0), a(7, 1, 1, 'f', 0, 0), codes);
+        x.begin(0, 0, 100, 0, 0);
+        x.step(0, 40000);
+        Case.is("DEEP", x.runAt(0, 0), 6);
+        Case.is("frames", x.runAt(0, 2), 60);
+        Case.is("all stacks", x.runAt(0, 3), 60 * 50 + 1);
+        for (int frame = 0; frame < 60; frame++) {
+            Case.is("local 0 of the frame " + frame, x.localAt(0, frame, 0), 40 + frame);
+            Case.is("local 100 of the frame " + frame, x.localAt(0, frame, 100), 0);
+        }
+        Case.is("the top", x.stackAt(0, 0), 40);
+        Case.is("below", x.stackAt(0, 50), 3);
+        Case.noElement("below all", () -> x.stackAt(0, 51));
+        Case.is("begin", x.begin(0, 0, 59, 0, 0), 1);
+        x.step(1, 40000);
+        Case.is("value", x.value(1), 9 + 60 * 150);
+    }
+
+    /** At most 40000 steps each, and 60 frames each, with the passes and without them. */
+    private static void boundsOfAlike() {
+        for (int nops = 0; nops < 3; nops++) {
+            Codekiln x = one(1, 1, row(a(3, 64, 32, 0, 65, 1, 107, 34, 0, 13, 0, 11), times(nops, 1), a(65, 1, 11)));
+            for (int n = 7998; n < 8001; n++) {
+                int steps = 5 * n + 4 + nops;
+                Case.is(steps + " steps", x.alike(0, 0, 0, n, 0, 0), steps <= 40000 ? 1 : 2);
+                Case.is(steps + " steps, fewer behind PEEP", x.alike(0, 0, 2, n, 0, 0), steps <= 40000 ? 1 : 2);
+            }
+        }
+        // A call of a leaf of 3 locals is 2 steps, and 8 where it is INLINE.
+        int[] leaf = a(4, 1, 3, I, 11);
+        int[] caller = a(0, 3, 64, 16, 0, 32, 0, 65, 1, 107, 34, 0, 13, 0, 11, 65, 1, 11);
+        Codekiln y = read(a(1, 2, 96, 0, 0, 96, 1, I, 1, I), a(3, 2, 0, 1), a(7, 1, 1, 'f', 0, 1), row(a(10, 2), leaf, a(caller.length), caller));
+        for (int n : a(3075, 3076, 3077, 5713, 5714, 5715)) {
+            Case.is("steps without a pass by " + n, y.alike(0, 0, 0, n, 0, 0), 4 + 7 * n <= 40000 ? 1 : 2);
+            Case.is("steps behind INLINE by " + n, y.alike(0, 0, 1, n, 0, 0), 4 + 13 * n <= 40000 ? 1 : 2);
+        }
+        Codekiln z = Case.made("int g(){return 4;}int f(int n){if(n)return f(n-1);return g();}");
+        for (int n = 57; n < 62; n++) {
+            Case.is("frames of both", z.alike(0, 1, 0, n, 0, 0), n + 2 <= 60 ? 1 : 2);
+            Case.is("frames, one less behind INLINE", z.alike(0, 1, 1, n, 0, 0), n + 2 <= 60 ? 1 : 2);
+            int made = z.pass(0, 0);
+            Case.is("frames behind INLINE", z.alike(made, 1, 0, n, 0, 0), n + 1 <= 60 ? 1 : 2);
+            z.begin(made, 1, n, 0, 0);
+            z.step(n - 57, 40000);
+            Case.is("frames of the run", z.runAt(n - 57, 8), Math.min(60, n + 1));
+        }
+    }
+
+    private static long stepsOf(Codekiln x, int module, long a, long b, long c) {
+        int run = x.begin(module, 0, a, b, c);
+        x.step(run, 40000);
+        if (x.runAt(run, 0) == 0) {
+            x.step(run, 40000);
+        }
+        long steps = x.runAt(run, 1);
+        x.dropRun(run);
+        return steps;
+    }
+
+    /** With at most 40000 steps: as many as the module behind the passes takes count. */
+    private static void boundsOfAgree() {
+        Codekiln x = Case.made("int f(int n,int m,int k){int j;while(n--);while(m--){1;1;1;1;}while(k--)j=1;return 5;}");
+        x.passes(0, 127);
+        long none = stepsOf(x, 0, 0, 0, 0);
+        long first = stepsOf(x, 0, 1, 0, 0) - none;
+        long second = stepsOf(x, 0, 0, 1, 0) - none;
+        long third = stepsOf(x, 0, 0, 0, 1) - none;
+        int found = 0;
+        for (int due = 39999; due < 40003; due++) {
+            for (int k = 0; k < 200 && found <= due - 39999; k++) {
+                long rest = due - none - third * k;
+                long m = rest / second - k % 5;
+                long n = (rest - second * m) / first;
+                if (n >= 0 && none + first * n + second * m + third * k == due && n + m + k < 2990) {
+                    found++;
+                    Case.is("steps", stepsOf(x, 0, n, m, k), due);
+                    Case.is("agree by " + due + " steps", x.agree(0, 0, 0, n, m, k), due <= 40000 ? 1 : 2);
+                    Case.is("behind passes", x.agree(0, 0, 127, n, m, k), stepsOf(x, 1, n, m, k) <= 40000 ? 1 : 2);
+                    Case.is("fewer behind passes", stepsOf(x, 1, n, m, k) < due, true);
+                }
+            }
+        }
+        Case.is("found by so many steps", found, 4);
+        for (int m = 2000; m < 2995; m += 199) {
+            Case.is("agree by " + m, x.agree(0, 0, 0, 0, m, 0), stepsOf(x, 0, 0, m, 0) <= 40000 ? 1 : 2);
+            Case.is("agree by " + m + " behind passes", x.agree(0, 0, 127, 0, m, 0), stepsOf(x, 1, 0, m, 0) <= 40000 ? 1 : 2);
+        }
+        Case.is("2999 rounds are BOUND", x.agree(0, 0, 127, 2999, 0, 0), 2);
     }
 }

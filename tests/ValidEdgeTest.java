@@ -22,6 +22,8 @@ public final class ValidEdgeTest {
         whatIsDead();
         unknownOnes();
         placesOfFaults();
+        deadOnesBesideOthers();
+        muchOnTheStack();
         Case.end();
     }
 
@@ -450,5 +452,50 @@ public final class ValidEdgeTest {
         }
         bad(0, 26, 26, 26);
         bad(1, 1, 26, 26);
+    }
+
+    /** A block that begins where a DEAD one has ended is not DEAD; nor is a function behind a DEAD one. */
+    private static void deadOnesBesideOthers() {
+        int[][] deaths = {a(0), a(12, 0), a(12, 1), a(15), a(65, 0, 14, 0, 0), a(65, 0, 14, 1, 0, 1)};
+        int[] many = {1, 1, 1, 1, 2, 2};
+        int[][] openers = {a(2, 64), a(3, 64), a(32, 0, 4, 64)};
+        int[] instructions = {1, 1, 2};
+        for (int d = 0; d < deaths.length; d++) {
+            for (int one = 0; one < 3; one++) {
+                for (int two = 0; two < 3; two++) {
+                    int[] dead = row(openers[one], deaths[d], a(11));
+                    int ahead = instructions[one] + many[d] + 1 + instructions[two];
+                    good(row(dead, openers[two], a(11)));
+                    bad(ahead, row(dead, openers[two], a(26, 11)));
+                    bad(ahead, row(dead, openers[two], a(69, 26, 11)));
+                    good(row(dead, openers[two], deaths[d], a(26, 11)));
+                    bad(ahead + many[d] + 1, row(dead, openers[two], deaths[d], a(11, 26)));
+                    bad(ahead - instructions[two], row(dead, a(26), openers[two], a(11)));
+                }
+            }
+            // Within another one, and two times as deep.
+            good(row(a(2, 64), openers[0], deaths[d], a(11, 2, 64, 11, 11)));
+            bad(many[d] + 4, row(a(2, 64), openers[0], deaths[d], a(11, 2, 64, 26, 11, 11)));
+            bad(many[d] + 5, row(a(2, 64), openers[0], deaths[d], a(11, 2, 64, 2, 64, 26, 11, 11, 11)));
+            bad(many[d] + 4, row(a(2, 64), openers[0], deaths[d], a(11, 3, 64, 26, 11, 11)));
+        }
+        int[] head = Case.module(a(1, 1, 96, 0, 0), a(3, 2, 0, 0));
+        Case.is("a function behind a DEAD one", Case.readFault(row(head, a(10, 9, 2, 3, 0, 0, 11, 3, 0, 26, 11))), "3 at 10000");
+        Case.is("a DEAD function", Case.readFault(row(head, a(10, 10, 2, 3, 0, 0, 11, 4, 0, 0, 26, 11))), "none");
+        Case.is("a DEAD function ahead", Case.readFault(row(head, a(10, 10, 2, 4, 0, 0, 26, 11, 3, 0, 26, 11))), "3 at 10000");
+        Case.is("only the first wrong one counts", Case.readFault(row(head, a(10, 9, 2, 3, 0, 26, 11, 3, 0, 26, 11))), "3 at 0");
+    }
+
+    /** As much lies on the stack as instructions put there. */
+    private static void muchOnTheStack() {
+        for (int deep : a(1, 63, 64, 65, 127, 128, 129, 500, 2999)) {
+            int[] sorts = new int[deep];
+            for (int k = 0; k < deep; k++) {
+                sorts[k] = k % 3 == 0 ? L : I;
+            }
+            good(row(consts(sorts), drops(deep)));
+            bad(2 * deep - 1, row(consts(sorts), drops(deep - 1)));
+            bad(2 * deep, row(consts(sorts), drops(deep + 1)));
+        }
     }
 }
