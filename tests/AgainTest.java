@@ -242,7 +242,13 @@ public final class AgainTest {
         for (int k = 1; k < 100; k += 2) {
             deep[k] = 64;
         }
-        int[][] wrong = {Case.module(a(1, 1, 96, 0, 1, I), a(3, 1, 0), Case.codeSection(many)), Case.module(a(1, 1, 96, 0, 1, I), a(3, 1, 0), Case.codeSection(deep)),
+        int[] mixed = new int[122];
+        for (int k = 0; k < 120; k += 2) {
+            mixed[k] = 65;
+        }
+        mixed[120] = 126;
+        mixed[121] = 11;
+        int[][] wrong = {Case.module(a(1, 1, 96, 0, 1, I), a(3, 1, 0), Case.codeSection(mixed)), Case.module(a(1, 1, 96, 0, 1, I), a(3, 1, 0), Case.codeSection(many)), Case.module(a(1, 1, 96, 0, 1, I), a(3, 1, 0), Case.codeSection(deep)),
             Case.module(a(1, 1, 96, 0, 1, I), a(3, 1, 0), Case.codeSection(0, 2, 64, 0, 2, 64, 0, 3, 64, 106, 11)),
             Case.module(a(2, 1, 1, 'x', 3, 'g', 'e', 't', 0, 0)), Case.module(a(1, 1, 96, 0, 1, I), a(3, 1, 0), a(10, 1, 5, 1, 250, 1, I, 11))};
         for (int[] bytes : wrong) {
@@ -268,10 +274,12 @@ public final class AgainTest {
         int[] second = {1, 2, I, 32, 1, 26, 11};
         int[] first = {1, 2, I, 32, 0, 26, 11};
         int[] none = {1, 2, I, 11};
-        int[][] bodies = {live, notLive, live, second, first, none, first, second, notLive};
-        String[] stored = {"3.64 32.0 26 65.1 33.0 65.0 13.0 11 11", "3.64 1 1 1 65.1 26 65.0 13.0 11 11", "3.64 32.0 26 65.1 33.0 65.0 13.0 11 11", "32.1 26 11", "32.0 26 11",
+        int[] ahead = {1, 1, I, 65, 1, 33, 0, 3, 64, 32, 0, 26, 65, 0, 13, 0, 11, 11};
+        int[] notAhead = {1, 1, I, 65, 1, 33, 0, 3, 64, 1, 1, 1, 65, 0, 13, 0, 11, 11};
+        int[][] bodies = {ahead, notAhead, live, notLive, live, second, first, none, first, second, notLive};
+        String[] stored = {"65.1 33.0 3.64 32.0 26 65.0 13.0 11 11", "65.1 26 3.64 1 1 1 65.0 13.0 11 11", "3.64 32.0 26 65.1 33.0 65.0 13.0 11 11", "3.64 1 1 1 65.1 26 65.0 13.0 11 11", "3.64 32.0 26 65.1 33.0 65.0 13.0 11 11", "32.1 26 11", "32.0 26 11",
             "11", "32.0 26 11", "32.1 26 11", "3.64 1 1 1 65.1 26 65.0 13.0 11 11"};
-        int[] locals = {1, 1, 1, 1, 1, 0, 1, 1, 1};
+        int[] locals = {1, 0, 1, 0, 1, 1, 1, 0, 1, 1, 0};
         int size = 2;
         for (int[] body : bodies) {
             size += body.length + 1;
@@ -292,12 +300,74 @@ public final class AgainTest {
         Case.is("read", readOf(x, Case.module(a(1, 1, 96, 0, 0), functions, codes)), "0: 0 at -1");
         x.pass(0, 5);
         x.pass(0, 6);
+        x.pass(1, 6);
         for (int f = 0; f < bodies.length; f++) {
             Case.is("STORES in " + f, Case.code(x, 1, f), stored[f]);
-            Case.is("locals behind SHARE in " + f, x.functionAt(2, f, 2), locals[f]);
-            Case.is("locals ahead of it", x.functionAt(1, f, 2), bodies[f][1]);
+            Case.is("locals behind STORES", x.functionAt(1, f, 2), bodies[f][1]);
+            Case.is("locals behind SHARE in " + f, x.functionAt(2, f, 2), bodies[f] == none ? 0 : 1);
+            Case.is("locals behind both in " + f, x.functionAt(3, f, 2), locals[f]);
         }
-        Case.is("SHARE gives it its new number", Case.code(x, 2, 3), "32.0 26 11");
+        Case.is("SHARE gives it its new number", Case.code(x, 2, 5), "32.0 26 11");
+        conflictsBehindOthers();
+    }
+
+    /** 130 locals that are LIVE at once, and behind them 130 that are so one behind the other. */
+    private static void conflictsBehindOthers() {
+        int locals = 130;
+        byte[] all = new byte[4000];
+        int at = 0;
+        for (int b : Case.module(a(1, 1, 96, 0, 0), a(3, 4, 0, 0, 0, 0))) {
+            all[at++] = (byte) b;
+        }
+        byte[][] codes = {setAndGot(locals, true), setAndGot(locals, false), setAndGot(locals, true), setAndGot(locals, false)};
+        int whole = 1;
+        for (byte[] code : codes) {
+            whole += code.length + 2;
+        }
+        all[at++] = 10;
+        all[at++] = (byte) (whole & 127 | 128);
+        all[at++] = (byte) (whole >> 7);
+        all[at++] = 4;
+        for (byte[] code : codes) {
+            all[at++] = (byte) (code.length & 127 | 128);
+            all[at++] = (byte) (code.length >> 7);
+            System.arraycopy(code, 0, all, at, code.length);
+            at += code.length;
+        }
+        Codekiln x = new Codekiln();
+        Case.addAll(x, Arrays.copyOf(all, at));
+        Case.is("read at " + x.fault(false), x.read(), 0);
+        x.pass(0, 6);
+        for (int f = 0; f < 4; f++) {
+            Case.is("locals behind SHARE in " + f, x.functionAt(1, f, 2), f % 2 == 0 ? locals : 1);
+        }
+    }
+
+    private static byte[] setAndGot(int locals, boolean isAtOnce) {
+        byte[] code = new byte[1000];
+        int at = 0;
+        code[at++] = 1;
+        code[at++] = (byte) (locals & 127 | 128);
+        code[at++] = (byte) (locals >> 7);
+        code[at++] = I;
+        for (int k = 0; k < 2 * locals; k++) {
+            boolean isSet = isAtOnce ? k < locals : k % 2 == 0;
+            int local = isAtOnce ? k % locals : k / 2;
+            if (isSet) {
+                code[at++] = 65;
+                code[at++] = 7;
+            }
+            code[at++] = (byte) (isSet ? 33 : 32);
+            code[at++] = (byte) (local < 128 ? local : local & 127 | 128);
+            if (local >= 128) {
+                code[at++] = (byte) (local >> 7);
+            }
+            if (!isSet) {
+                code[at++] = 26;
+            }
+        }
+        code[at++] = 11;
+        return Arrays.copyOf(code, at);
     }
 
     /** A run in the place of a dropped one begins anew. */

@@ -151,6 +151,25 @@ public final class BytesEdgeTest {
         bad("61 types, told alone", section(1, HERE, 61));
         good("20 parameters", section(1, 1, 96, 20, times(20, 126), 0));
         bad("21 parameters", section(1, 1, 96, HERE, 21, times(21, 126), 0));
+        // All 20 of each type stand by themselves.
+        int[] sorts = new int[20];
+        for (int k = 0; k < 20; k++) {
+            sorts[k] = 126 + k % 3 % 2;
+        }
+        Codekiln x = typed(whole(section(1, 3, 96, 20, sorts, 1, 126, 96, 20, times(20, 127), 0, 96, 20, times(20, 126), 1, 127), section(3, 3, 0, 1, 2),
+            section(10, 3, code(0, 66, 0, 11), code(0, 11), code(0, 65, 0, 11))));
+        Case.is("read at " + x.fault(false), fault(x), "none");
+        for (int k = 0; k < 20; k++) {
+            Case.is("parameter " + k, x.localSort(0, 0, k), sorts[k]);
+            Case.is("parameter " + k, x.localSort(0, 1, k), 127);
+            Case.is("parameter " + k, x.localSort(0, 2, k), 126);
+        }
+        for (int f = 0; f < 3; f++) {
+            int own = f;
+            Case.is("parameters", x.functionAt(0, f, 1), 20);
+            Case.is("value", x.functionAt(0, f, 4), f == 0 ? 126 : f == 1 ? 64 : 127);
+            Case.noIndex("a 21st", () -> x.localSort(0, own, 20));
+        }
         good("no value", section(1, 1, 96, 0, 0));
         good("one value", section(1, 1, 96, 0, 1, 126));
         bad("two values", section(1, 1, 96, 0, HERE, 2, 126, 126));
@@ -431,6 +450,15 @@ public final class BytesEdgeTest {
         wrong(7, "the function behind the last one", ahead, section(7, 1, 1, "a", 0, 1), codes);
         wrong(7, "a name twice", ahead, section(7, 3, 1, "a", 0, 0, 1, "b", 0, 0, 1, "a", 0, 0), codes);
         good("the first bytes of a name", ahead, section(7, 2, 1, "a", 0, 0, 2, "aa", 0, 0), codes);
+        for (int length = 1; length <= 10; length++) {
+            String name = "abcdefghij".substring(0, length);
+            wrong(7, "a name of " + length + " twice", ahead, section(7, 2, length, name, 0, 0, length, name, 0, 0), codes);
+            for (int k = 0; k < length; k++) {
+                String other = name.substring(0, k) + "z" + name.substring(k + 1);
+                good(name + " and " + other, ahead, section(7, 2, length, name, 0, 0, length, other, 0, 0), codes);
+                wrong(7, name + ", " + other + ", " + name, ahead, section(7, 3, length, name, 0, 0, length, other, 0, 0, length, name, 0, 0), codes);
+            }
+        }
         wrong(7, "no name twice", ahead, section(7, 2, 0, 0, 0, 0, 0, 0), codes);
         int[] get = row(1, "h", 3, "get", 0, 1);
         good("an import, and the last one", TYPES, section(2, 1, get), section(3, 1, 0), section(7, 2, 1, "a", 0, 0, 1, "b", 0, 1), codes);

@@ -32,6 +32,7 @@ public final class MeaningEdgeTest {
         droppedValues();
         arraysOfOneCell();
         placesThatGoRound();
+        allVariables();
         Case.end();
     }
 
@@ -655,6 +656,40 @@ public final class MeaningEdgeTest {
             Case.is("array and 1 in the call " + n, x.meant(0), 4096 - 1000L * (n + 1) + 801);
             Case.is("both ways", x.agree(0, 2, 127, n, 0, 0), 1);
             Case.is("both ways", x.agree(0, 3, 127, n, 0, 0), 1);
+        }
+    }
+
+    /** 5 parameters and 20 locals, all LOOSE or all PLACED, each by itself in each call. */
+    private static void allVariables() {
+        StringBuilder declared = new StringBuilder();
+        StringBuilder told = new StringBuilder();
+        StringBuilder placed = new StringBuilder();
+        for (int k = 0; k < 25; k++) {
+            char name = (char) ('a' + k);
+            declared.append(k < 5 ? "" : "int " + name + ";if(_)" + name + "=" + (k + 1) + ";");
+            told.append("put(").append(name).append(");");
+            placed.append("&").append(name).append(";");
+        }
+        for (int k = 0; k < 2; k++) {
+            Codekiln x = Case.loaded("int _;void z(int a,int b,int c,int d,int e){" + declared + (k == 0 ? "" : placed) + "if(_>1){_--;z(5,4,3,2,1);}" + told
+                + "}void y(int k){_=k;z(1,2,3,4,5);}");
+            Case.is("all of them", x.functionIs(0, 0, 0) + x.functionIs(0, 0, 1), 25);
+            Case.is("PLACED", x.functionIs(0, 0, 2), k == 0 ? 0 : 25);
+            Case.is("FRAME", x.functionIs(0, 0, 3), k == 0 ? 0 : 104);
+            for (int n = 0; n < 4; n++) {
+                Case.is("end", x.mean(0, 1, n, 0, 0), 0);
+                Case.is("calls", x.meant(2), Math.max(1, n) + 1);
+                for (int v = 0; v < 25 && n > 0; v++) {
+                    Case.is("the variable " + v + " of the innermost one of " + n, x.out(v), n == 1 || v >= 5 ? v + 1 : 5 - v);
+                    Case.is("the variable " + v + " of the outermost one of " + n, x.out(25 * n - 25 + v), v + 1);
+                }
+                // LOOSE ones are 0 as a call begins, the last one, too.
+                for (int v = 5; v < 25 && n + k == 0; v++) {
+                    Case.is("the local " + v, x.out(v), 0);
+                }
+                Case.is("both ways", x.agree(0, 1, 0, n, 0, 0), 1);
+                Case.is("both ways", x.agree(0, 1, 127, n, 0, 0), 1);
+            }
         }
     }
 }

@@ -345,7 +345,7 @@ public final class TextEdgeTest {
 
     /** What has ended is open no more. */
     private static void closedAgain() {
-        stands("int f(int a){" + "if(1);else;while(1);do;while(1);for(;;);switch(1){}".repeat(5) + "}");
+        stands("int f(int a){" + "if(1);else;while(1);do;while(1);for(;;);switch(1){}".repeat(16) + "}");
         stands("int f(int a){return f((1)+(1)+(1)+(1)+(1)+(1)+(1)+(1)+(1)+(1)+(1)+(1)+(1)+(1)+(1)+(1));}");
         stands("int f(int a){return " + "-1+!1*~1+".repeat(8) + "1;}");
         stands("int f(int a){return " + "(int)1+".repeat(16) + "1;}");
