@@ -16,6 +16,7 @@ public final class MakeEdgeTest {
         nestedLoops();
         twelveFunctions();
         sizes();
+        typesByTokens();
         Case.end();
     }
 
@@ -257,6 +258,24 @@ public final class MakeEdgeTest {
             int whole = 8 + 11 + 19 + 4 + 6 + 6 + 9 + 7 + 9 + 3 + 1 + (section < 128 ? 1 : 2) + section;
             Case.is("bytes of " + code, x.write(0), whole);
             Case.is("same as read", x.same(0, x.read()), true);
+        }
+    }
+
+    /** TYPES: of functions by their numbers, of calls by FUNCTION POINTERS by tokens, whichever function has them. */
+    private static void typesByTokens() {
+        String ahead = "int b();int a();";
+        String[] pointers = {"long(*p)();void(*q)();long(*r)(long);void(*s)(long);", ""};
+        String[] locals = {"", "long(*p)();void(*q)();long(*r)(long);void(*s)(long);"};
+        for (int k = 0; k < 2; k++) {
+            Codekiln x = Case.made(pointers[k] + ahead + "int a(){" + locals[k] + "r(p());return 1;}int b(){" + locals[k] + "q();p();s(r(1));return 1;}");
+            Case.is("types", x.moduleIs(0, 0), 6);
+            Case.is("code of b", Case.code(x, 0, 2).replaceAll("(32|40|65)\\.\\d+ ?", ""), "17.4 17.3 26 172 17.2 17.5 15 11");
+            Case.is("code of a", Case.code(x, 0, 3).replaceAll("(32|40|65)\\.\\d+ ?", ""), "17.3 17.2 26 15 11");
+            x.write(0);
+            int[] due = {6, 96, 0, 1, 127, 96, 1, 127, 0, 96, 1, 126, 1, 126, 96, 0, 1, 126, 96, 0, 0, 96, 1, 126, 0};
+            for (int b = 0; b < due.length; b++) {
+                Case.is("byte " + b + " of the types", x.byteAt(10 + b), due[b]);
+            }
         }
     }
 }

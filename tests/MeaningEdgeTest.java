@@ -33,6 +33,8 @@ public final class MeaningEdgeTest {
         arraysOfOneCell();
         placesThatGoRound();
         allVariables();
+        nothingIsWrittenByTraps();
+        nothingBeginsByBound();
         Case.end();
     }
 
@@ -594,7 +596,7 @@ public final class MeaningEdgeTest {
 
     /** What an exp gives, and nobody takes, does not add up, however long it goes on. */
     private static void droppedValues() {
-        Codekiln x = Case.loaded("int f(int n){int i;int s=0;for(i=0;i<n;i++){i;s+=i;-i;i*2;s;}return s;}void g(){}int h(int n){int s=0;"
+        Codekiln x = Case.loaded("int f(int n){int i;int s=0;for(i=0;i<n;i++){i;s+=i;-i;i*2;s=s;s=s;n=n;s;}return s;}void g(){}int h(int n){int s=0;"
             + "while(s<n){s++;g();s;s;}return s;}int k(int n){int i;int j;for(i=0;i<n;i+=50)for(j=0;j<49;j++){j;j;j;j;}return i;}");
         Case.is("a long loop", x.mean(0, 0, 2998, 0, 0), 0);
         Case.is("its value", x.meant(0), 2997 * 2998 / 2);
@@ -690,6 +692,64 @@ public final class MeaningEdgeTest {
                 Case.is("both ways", x.agree(0, 1, 0, n, 0, 0), 1);
                 Case.is("both ways", x.agree(0, 1, 127, n, 0, 0), 1);
             }
+        }
+    }
+
+    /** What ends by DIVISION, or MEMORY, has written nothing by that. */
+    private static void nothingIsWrittenByTraps() {
+        String[] texts = {"int g=7;int f(int n){g/=n-n;return 1;}", "int g=7;int f(int n){g%=n-n;return 1;}", "char g=7;int f(int n){g/=n-n;return 1;}",
+            "long g=7;int f(int n){g%=n-n;return 1;}", "int g=7;int f(int n){g=n/(n-n);return 1;}", "int g=7;int f(int n){*(&g)/=n-n;return 1;}",
+            "int g=7;int f(int n){(&g)[0]%=0;return 1;}", "int g=7;int f(int n){g=*(int*)4093;return 1;}", "int g=7;int f(int n){g+=*(int*)4093;return 1;}",
+            "int g=7;int f(int n){put(1/(n-n));g=8;return 1;}", "int g=7;int f(int n){g=f(n/(n-n));return 1;}", "int g=7;int f(int n){*(int*)4093=g=8/(n-n);return 1;}"};
+        for (int k = 0; k < texts.length; k++) {
+            Codekiln x = Case.loaded(texts[k]);
+            Case.is("end of " + texts[k], x.mean(0, 0, 5, 0, 0), k == 7 || k == 8 ? 2 : 1);
+            Case.is("GLOBAL of " + texts[k], x.meantByte(16), 7);
+            Case.is("puts", x.meant(3), 0);
+            Case.is("value", x.meant(0), 0);
+            Case.is("both ways", x.agree(0, 0, 0, 5, 0, 0), 1);
+            Case.is("both ways", x.agree(0, 0, 127, 5, 0, 0), 1);
+        }
+        Codekiln x = Case.loaded("int g=7;int f(int n){*(int*)n=g=8;return 1;}int h(int n){*(int*)n=-1;return 1;}int k(int n){*(long*)n=-1L;return 1;}"
+            + "int l(int n){(*(int*)n)++;return 1;}int m(int n){*(long*)n+=1L;return 1;}");
+        Case.is("MEMORY", x.mean(0, 0, 4093, 0, 0), 2);
+        Case.is("the right side was written", x.meantByte(16), 8);
+        for (int f = 1; f < 5; f++) {
+            int size = f == 1 || f == 3 ? 4 : 8;
+            for (int place = 4096 - size - 1; place < 4097; place++) {
+                Case.is("end of " + f + " at " + place, x.mean(0, f, place, 0, 0), place + size > 4096 ? 2 : 0);
+                for (int b = 4080; b < 4096; b++) {
+                    boolean isWritten = place + size <= 4096 && (f < 3 ? b >= place && b < place + size : b == place);
+                    Case.is("byte " + b, x.meantByte(b), !isWritten ? 0 : f < 3 ? 255 : 1);
+                }
+            }
+        }
+    }
+
+    /** A call that the bound ends has not begun: neither its frame nor its place among the calls is there. */
+    private static void nothingBeginsByBound() {
+        Codekiln x = Case.loaded("int g(int n){int a[10];a[0]=n;return n;}int f(int n){int b[3];int i;b[0]=0;for(i=0;i<n;i++)b[0]+=g(1);g(5);return b[0];}"
+            + "int h(int n){int a[3];a[0]=n;return n?h(n-1):0;}");
+        // 1 of f, 2 for each round, 1 of its end, 1 of the last call.
+        Case.is("2999 TICKS", x.mean(0, 1, 1498, 0, 0), 0);
+        Case.is("TICKS", x.meant(1), 2999);
+        Case.is("the last call's frame is gone", x.meant(6), 4096);
+        Case.is("one round more", x.mean(0, 1, 1499, 0, 0), 4);
+        Case.is("TICKS", x.meant(1), 3000);
+        Case.is("TOP, of f alone", x.meant(6), 4096 - 16);
+        Case.is("the most calls", x.meant(2), 2);
+        Codekiln y = Case.loaded("int g(){int a[10];return 1;}int f(int n){int b[3];while(n--);return g();}");
+        Case.is("a call with the 3000th TICK", y.mean(0, 1, 2997, 0, 0), 0);
+        Case.is("the most calls", y.meant(2), 2);
+        Case.is("a call with the 3001st TICK", y.mean(0, 1, 2998, 0, 0), 4);
+        Case.is("TICKS", y.meant(1), 3000);
+        Case.is("the most calls", y.meant(2), 1);
+        Case.is("TOP", y.meant(6), 4096 - 16);
+        for (int n = 22; n < 26; n++) {
+            Case.is("calls", x.mean(0, 2, n, 0, 0), n < 24 ? 0 : 4);
+            Case.is("TOP", x.meant(6), n < 24 ? 4096 : 4096 - 24 * 16);
+            Case.is("the most calls", x.meant(2), Math.min(n + 1, 24));
+            Case.is("TICKS", x.meant(1), n < 24 ? n + 1 : 25);
         }
     }
 }

@@ -27,6 +27,7 @@ public final class PassEdgeTest {
         jumps();
         stores();
         shares();
+        sharesInDeadCode();
         bits();
         leavesBehindTheirCallers();
         closedBlocksDoNotCount();
@@ -536,6 +537,15 @@ public final class PassEdgeTest {
         // With the first one ahead that it does not CONFLICT with, and with all that came together with that.
         PassTest.pass(6, "65.1 33.0 32.0 26 65.2 33.2 65.3 33.0 32.2 32.0 106 11",
             65, 1, 33, 2, 32, 2, 26, 65, 2, 33, 3, 65, 3, 33, 2, 32, 3, 32, 2, 106, 11);
+    }
+
+    /** Behind a br nothing goes on: there no instruction is one behind which two are LIVE, but for what stands there. */
+    private static void sharesInDeadCode() {
+        PassTest.pass(6, "0 32.0 26 32.0 26 65.1 11", 0, 32, 2, 26, 32, 3, 26, 65, 1, 11);
+        PassTest.pass(6, "0 32.0 32.0 106 26 65.1 11", 0, 32, 2, 32, 3, 106, 26, 65, 1, 11);
+        PassTest.pass(6, "0 1 32.0 26 32.2 26 65.1 11", 0, 1, 32, 2, 26, 32, 3, 26, 65, 1, 11);
+        PassTest.pass(6, "0 65.1 33.0 65.2 33.2 32.0 32.2 106 11", 0, 65, 1, 33, 2, 65, 2, 33, 3, 32, 2, 32, 3, 106, 11);
+        PassTest.pass(6, "65.1 15 32.0 26 32.0 11", 65, 1, 15, 32, 2, 26, 32, 3, 11);
     }
 
     /** passes() takes the bits 0 to 127, by numbers. */

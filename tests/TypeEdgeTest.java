@@ -419,6 +419,11 @@ public final class TypeEdgeTest {
         Case.faultAt(3, "int a(int b);void c(int*d){d=@a();}int a(int b){return 1;}");
         Case.faultAt(3, "int a(int b);void c(int*d){d=@d(1);}int a(int b){return 1;}");
         Case.faultAt(3, "int a(int b);int*c(int*d){return a(@d);}int a(int b){return 1;}");
+        Case.faultAt(3, "int a(int b);void c(int*d){d=a(@get);}int a(int b){return 1;}");
+        Case.faultAt(3, "int a(int b,int e);void c(int*d){d=a(@get,1);}int a(int b,int e){return 1;}");
+        Case.faultAt(3, "int a(int b,int e);void c(int*d){d=a(1,@get);}int a(int b,int e){return 1;}");
+        Case.faultAt(3, "int a(int b);void c(int*d){d=a(1,@get);}int a(int b){return 1;}");
+        Case.faultAt(3, "int a(int b);void c(int*d){d=get(@get);}int a(int b){return 1;}");
         Case.faultAt(3, "void c(int*d){d=d[1@[2]];}");
         Case.faultAt(3, "void c(int*d){d=-@get;}");
         Case.faultAt(3, "void c(int*d){d=(int)@get;}");
