@@ -3515,8 +3515,8 @@ public final class Codekiln {
             sortCount = from.sortCount;
             rowsEnd = from.rowsEnd;
             if (ops.length < count) {
-                ops = new int[count + count / 2];
-                with = new long[count + count / 2];
+                ops = new int[count + count / 4];
+                with = new long[count + count / 4];
             }
             if (sorts.length < sortCount) {
                 sorts = new int[sortCount * 2];
@@ -3651,9 +3651,9 @@ public final class Codekiln {
         /** Links what opens with what closes it. */
         void link() {
             if (mates.length < count) {
-                mates = new int[count * 2];
-                outers = new int[count * 2];
-                heights = new int[count * 2];
+                mates = new int[count + count / 4];
+                outers = new int[count + count / 4];
+                heights = new int[count + count / 4];
             }
             int inside = NONE;
             for (int i = 0; i < count; i++) {
@@ -5983,8 +5983,12 @@ public final class Codekiln {
         private static final int INLINED_MOST = 1500;
         private static final int LOCALS_MOST = 200;
         private static final int OPENED_MOST = 200;
+        /** From here on the passes link what they go over. */
+        private static final int LINKING = 4;
         private Module module;
         private Body body;
+        /** Holds what is linked, so that only modules that are run keep links of their own. */
+        private final Body work = new Body();
         /** How many longs tell of each local of the body at hand whether it is LIVE. */
         private int width;
         private long[] live = new long[64];
@@ -6011,7 +6015,10 @@ public final class Codekiln {
                 return;
             }
             for (int k = 0; k < m.own; k++) {
-                body = m.body(k);
+                body = which < LINKING ? m.body(k) : work;
+                if (which >= LINKING) {
+                    work.copy(m.body(k));
+                }
                 switch (which) {
                     case 1:
                         peep();
@@ -6031,6 +6038,9 @@ public final class Codekiln {
                     default:
                         share();
                         break;
+                }
+                if (which >= LINKING) {
+                    m.body(k).copy(work);
                 }
             }
         }
