@@ -39,6 +39,7 @@ public final class PassEdgeTest {
         manyLocals();
         liveInBranches();
         inlinedByTwos();
+        rowsAlike();
         Case.end();
     }
 
@@ -793,6 +794,36 @@ public final class PassEdgeTest {
         Case.is("locals", Case.locals(x, 1, 1), "[127, 127, 127, 126, 127, 127, 126]");
         Case.is("alike", x.alike(0, 0, 1, 0, 0, 0), 1);
         Case.is("steady", x.isSteady(0, 0), true);
+        Case.is("errors", x.errors(), 0);
+    }
+
+    /** Places of br_tables that are alike change each for itself. */
+    private static void rowsAlike() {
+        PassTest.pass(3, "2.64 2.64 32.0 14.0,0 32.0 14.1,1 11 11 65.1 11",
+            2, 64, 2, 64, 2, 64, 32, 0, 14, 1, 1, 1, 11, 32, 0, 14, 1, 1, 1, 11, 11, 65, 1, 11);
+        PassTest.pass(3, "2.64 2.64 32.0 14.0,0 32.0 14.0,0 32.0 14.1,1 11 11 65.1 11",
+            2, 64, 2, 64, 2, 64, 32, 0, 14, 1, 1, 1, 32, 0, 14, 1, 1, 1, 11, 32, 0, 14, 1, 1, 1, 11, 11, 65, 1, 11);
+        PassTest.pass(3, "2.64 2.64 32.0 14.0,1,0 32.0 14.0,0 32.0 14.1,1 11 11 65.1 11",
+            2, 64, 2, 64, 2, 64, 32, 0, 14, 2, 1, 2, 1, 32, 0, 14, 1, 1, 1, 11, 32, 0, 14, 1, 1, 1, 11, 11, 65, 1, 11);
+        // Rows that are but a little alike: in how many places, in the last one, in one between.
+        for (int which : row(1, 3, 4, 5, 6)) {
+            PassTest.pass(which, "2.64 2.64 32.0 14.0,0 32.0 14.0 32.0 14.0,0,0 32.0 14.0,1 32.0 14.0,1,0 32.0 14.1,1 32.0 14.1 11 11 65.1 11",
+                2, 64, 2, 64, 32, 0, 14, 1, 0, 0, 32, 0, 14, 0, 0, 32, 0, 14, 2, 0, 0, 0, 32, 0, 14, 1, 0, 1,
+                32, 0, 14, 2, 0, 1, 0, 32, 0, 14, 1, 1, 1, 32, 0, 14, 0, 1, 11, 11, 65, 1, 11);
+        }
+        Codekiln x = new Codekiln();
+        Case.setBytes(x, Case.module(new int[] {1, 1, 96, 0, 0}, new int[] {3, 2, 0, 0}, new int[] {7, 1, 1, 'f', 0, 1},
+            new int[] {10, 2, 11, 0, 2, 64, 65, 0, 14, 1, 1, 1, 11, 11, 8, 0, 16, 0, 16, 0, 16, 0, 11}));
+        Case.is("read at " + x.fault(false), x.read(), 0);
+        x.pass(0, 0);
+        x.pass(1, 3);
+        x.passes(0, 9);
+        String inlined = "2.64 2.64 65.0 14.1,1 11 11 ";
+        String bare = "2.64 65.0 14.0,0 11 ";
+        Case.is("inlined", Case.code(x, 1, 1), inlined + inlined + inlined + "11");
+        Case.is("blocks gone", Case.code(x, 2, 1), bare + bare + bare + "11");
+        Case.is("blocks gone at once", x.same(2, 3), true);
+        Case.is("the first one stays", Case.code(x, 0, 0), "2.64 65.0 14.1,1 11 11");
         Case.is("errors", x.errors(), 0);
     }
 }

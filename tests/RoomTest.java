@@ -11,6 +11,7 @@ public final class RoomTest {
     public static void main(String[] args) {
         piecesAgain();
         swollenModules();
+        swollenRows();
         Case.end();
     }
 
@@ -51,44 +52,62 @@ public final class RoomTest {
         x.errors();
     }
 
-    /** A leaf of 30 instructions in 41 functions that call it 37 times each, in all modules that there may be. */
+    /** A leaf of 30 instructions, called 37 times each by 41 functions. */
     private static void swollenModules() {
-        byte[] bytes = callers();
+        ArrayList<Integer> leaf = row(1, 5, 127);
+        for (int k = 0; k < 14; k++) {
+            leaf.addAll(row(32, k % 5, 26));
+        }
+        leaf.addAll(row(1, 11));
+        inAllModules("a leaf in many functions", callers(leaf, 41, 37), 60628);
+    }
+
+    /** A leaf of 28 rows of 60 places, called 48 times each by 17 functions. */
+    private static void swollenRows() {
+        ArrayList<Integer> leaf = row(0, 65, 0);
+        for (int k = 0; k < 28; k++) {
+            leaf.addAll(row(14, 60));
+            for (int p = 0; p <= 60; p++) {
+                leaf.add(0);
+            }
+        }
+        leaf.add(11);
+        inAllModules("rows in many functions", callers(leaf, 17, 48), 25343);
+    }
+
+    /** As many modules as there may be come of one whose leaf is inlined, and each is gone over and run. */
+    private static void inAllModules(String what, byte[] bytes, int instructions) {
         long from = made();
         Codekiln x = new Codekiln();
         Case.addAll(x, bytes);
-        Case.is("module of callers", x.read(), 0);
-        Case.is("callers inlined", x.pass(0, 0), 1);
-        Case.is("instructions of inlined ones", x.moduleIs(1, 12), 60628);
+        Case.is(what + ": read", x.read(), 0);
+        Case.is(what + ": inlined", x.pass(0, 0), 1);
+        Case.is(what + ": instructions", x.moduleIs(1, 12), instructions);
         for (int k = 2; k < 12; k++) {
-            Case.is("a pass over them", x.pass(1, 4 + k % 3), k);
+            Case.is(what + ": a pass", x.pass(1, 3 + k % 4), k);
         }
         for (int k = 0; k < 7; k++) {
-            Case.is("steady", x.isSteady(1, k), true);
+            Case.is(what + ": steady", x.isSteady(1, k), true);
         }
         for (int k = 0; k < 12; k++) {
-            Case.is("alike", x.alike(k, 0, 127, 0, 0, 0), 1);
+            Case.is(what + ": alike", x.alike(k, 0, 127, 0, 0, 0), 1);
         }
-        Case.is("errors", x.errors(), 0);
-        fits("swollen modules", from, ROOM);
+        Case.is(what + ": errors", x.errors(), 0);
+        fits(what, from, ROOM);
     }
 
-    private static byte[] callers() {
-        ArrayList<Integer> functions = row(3, 42);
-        ArrayList<Integer> codes = row(10, 42, 64, 1, 5, 127);
-        for (int k = 0; k < 14; k++) {
-            codes.addAll(row(32, k % 5, 26));
-        }
-        codes.addAll(row(1, 11));
-        codes.set(2, codes.size() - 3);
-        functions.add(0);
-        for (int k = 0; k < 41; k++) {
-            functions.add(0);
-            codes.addAll(row(76, 0));
-            for (int c = 0; c < 37; c++) {
-                codes.addAll(row(16, 0));
+    private static byte[] callers(ArrayList<Integer> leaf, int many, int calls) {
+        ArrayList<Integer> functions = row(3, many + 1, 0);
+        ArrayList<Integer> codes = row(10, many + 1);
+        addCode(codes, leaf);
+        for (int k = 0; k < many; k++) {
+            ArrayList<Integer> caller = row(0);
+            for (int c = 0; c < calls; c++) {
+                caller.addAll(row(16, 0));
             }
-            codes.add(11);
+            caller.add(11);
+            functions.add(0);
+            addCode(codes, caller);
         }
         int[] all = Case.module(new int[] {1, 1, 96, 0, 0}, array(functions), new int[] {7, 1, 1, 'a', 0, 5}, array(codes));
         byte[] bytes = new byte[all.length];
@@ -96,6 +115,14 @@ public final class RoomTest {
             bytes[k] = (byte) all[k];
         }
         return bytes;
+    }
+
+    private static void addCode(ArrayList<Integer> codes, ArrayList<Integer> code) {
+        codes.add(code.size() % 128 + (code.size() > 127 ? 128 : 0));
+        if (code.size() > 127) {
+            codes.add(code.size() / 128);
+        }
+        codes.addAll(code);
     }
 
     private static ArrayList<Integer> row(int... parts) {

@@ -3509,11 +3509,12 @@ public final class Codekiln {
             rowsEnd = 0;
         }
 
-        void copy(Body from) {
+        /** Each br_table has a row of its own, if rows are to be changed; else those that are alike are one. */
+        void copy(Body from, boolean hasOwnRows) {
             signature = from.signature;
             count = from.count;
             sortCount = from.sortCount;
-            rowsEnd = from.rowsEnd;
+            rowsEnd = 0;
             if (ops.length < count) {
                 ops = new int[count + count / 4];
                 with = new long[count + count / 4];
@@ -3521,13 +3522,14 @@ public final class Codekiln {
             if (sorts.length < sortCount) {
                 sorts = new int[sortCount * 2];
             }
-            if (rows.length < rowsEnd) {
-                rows = new int[rowsEnd * 2];
-            }
             System.arraycopy(from.ops, 0, ops, 0, count);
             System.arraycopy(from.with, 0, with, 0, count);
             System.arraycopy(from.sorts, 0, sorts, 0, sortCount);
-            System.arraycopy(from.rows, 0, rows, 0, rowsEnd);
+            for (int i = 0; i < count; i++) {
+                if (ops[i] == BR_TABLE) {
+                    with[i] = takeRow(from, with[i], hasOwnRows);
+                }
+            }
         }
 
         void add(int op, long what) {
@@ -3575,6 +3577,31 @@ public final class Codekiln {
             }
             rows[rowsEnd] = what;
             rowsEnd++;
+        }
+
+        /** A row like one of another body. */
+        int takeRow(Body from, long told, boolean isOwn) {
+            int many = from.rowSize(told);
+            int row = newRow(many);
+            for (int k = 0; k <= many; k++) {
+                addToRow(from.rowPlace(told, k));
+            }
+            for (int other = 0; other < row && !isOwn; other += 2 + rowSize(other)) {
+                if (areLikeRows(other, row, many)) {
+                    rowsEnd = row;
+                    return other;
+                }
+            }
+            return row;
+        }
+
+        /** Whether a row is like the newest one. */
+        private boolean areLikeRows(int one, int newest, int many) {
+            boolean are = one >= 0 && one <= newest && newest + many + 1 < rowsEnd && rowsEnd <= rows.length;
+            for (int k = 0; k <= many + 1 && are; k++) {
+                are = rows[one + k] == rows[newest + k];
+            }
+            return are;
         }
 
         /** How many places the br_table has, the last one not counted. */
@@ -3873,7 +3900,7 @@ public final class Codekiln {
             System.arraycopy(from.laid, 0, laid, 0, laid.length);
             for (int k = 0; k < from.own; k++) {
                 newBody();
-                body(k).copy(from.body(k));
+                body(k).copy(from.body(k), false);
             }
         }
 
@@ -5983,11 +6010,11 @@ public final class Codekiln {
         private static final int INLINED_MOST = 1500;
         private static final int LOCALS_MOST = 200;
         private static final int OPENED_MOST = 200;
-        /** From here on the passes link what they go over. */
-        private static final int LINKING = 4;
+        /** From here on the passes link what they go over, or change rows. */
+        private static final int APART = 3;
         private Module module;
         private Body body;
-        /** Holds what is linked, so that only modules that are run keep links of their own. */
+        /** Those go over this one, so that modules that are not run keep no links, and no rows twice. */
         private final Body work = new Body();
         /** How many longs tell of each local of the body at hand whether it is LIVE. */
         private int width;
@@ -6015,9 +6042,9 @@ public final class Codekiln {
                 return;
             }
             for (int k = 0; k < m.own; k++) {
-                body = which < LINKING ? m.body(k) : work;
-                if (which >= LINKING) {
-                    work.copy(m.body(k));
+                body = which < APART ? m.body(k) : work;
+                if (which >= APART) {
+                    work.copy(m.body(k), true);
                 }
                 switch (which) {
                     case 1:
@@ -6039,8 +6066,8 @@ public final class Codekiln {
                         share();
                         break;
                 }
-                if (which >= LINKING) {
-                    m.body(k).copy(work);
+                if (which >= APART) {
+                    m.body(k).copy(work, false);
                 }
             }
         }
@@ -6120,6 +6147,9 @@ public final class Codekiln {
                 int op = leaf.op(k);
                 deep = Body.opens(op) ? deep + 1 : op == CLOSE ? deep - 1 : deep;
                 body.set(i, op == RETURN ? BR : op, withMoved(leaf, k, from, deep));
+                if (op == BR_TABLE) {
+                    body.set(i, op, body.takeRow(leaf, leaf.with(k), false));
+                }
                 i++;
             }
             body.set(i, CLOSE, NONE);
@@ -6129,22 +6159,10 @@ public final class Codekiln {
             return i + 1;
         }
 
-        /** What stands with an instruction of a leaf, when it stands in another body. */
-        private long withMoved(Body leaf, int k, int from, int deep) {
+        /** What stands with an instruction of a leaf (but br_table), when it stands in another body. */
+        private static long withMoved(Body leaf, int k, int from, int deep) {
             int op = leaf.op(k);
-            long with = leaf.with(k);
-            if (op == RETURN) {
-                return deep;
-            }
-            if (op == BR_TABLE) {
-                int many = leaf.rowSize(with);
-                int row = body.newRow(many);
-                for (int p = 0; p <= many; p++) {
-                    body.addToRow(leaf.rowPlace(with, p));
-                }
-                return row;
-            }
-            return Maker.isOfLocal(op) ? with + from : with;
+            return op == RETURN ? deep : Maker.isOfLocal(op) ? leaf.with(k) + from : leaf.with(k);
         }
 
         // ---- PEEP: no pattern is longer than three, so that a change can let one fit two ahead of it at most.
